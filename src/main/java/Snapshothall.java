@@ -15,6 +15,8 @@ public final class Snapshothall {
     private static final int MOST_CELLS = 100000;
     private static final int FIRST_BYTE = 32, LAST_BYTE = 126;
     private static final int LONG_BYTES = 8, TYPED_BYTES = 40;
+    private static final int MOST_RESULTS = 40, RESULT_WIDE = 6;
+    private static final int OWNER = 0, FROM = 1, TO = 2, REFUSAL = 3, NUMBER = 4, COLUMNS = 5, RECORD_WIDE = 6;
 
     private static final int INT = 1, WORD = 2;
     private static final int MOST_COLUMNS = 6;
@@ -26,9 +28,18 @@ public final class Snapshothall {
     private final Tree script = new Tree();
     private final Parser parser = new Parser();
     private final Hall hall = new Hall();
-    private final Journal journal = new Journal();
     private Hall secondHall;
     private int length;
+    // The results of the latest script.
+    private int resultCount;
+    private final int[] told = new int[MOST_RESULTS * RESULT_WIDE];
+    private final Rows[] answer = new Rows[MOST_RESULTS];
+    // The statements of SERIALIZABLE transactions: their texts, and what they were told.
+    private int records;
+    private int[] record = new int[0];
+    private long[] answerHash = new long[0];
+    private byte[] recordText = new byte[0];
+    private int recordLength;
 
     /** Promise 1. */
     public Snapshothall() {
@@ -86,33 +97,93 @@ public final class Snapshothall {
             throw new IllegalArgumentException("the text has a fault");
         }
         length = 0;
-        journal.startScript();
+        resultCount = 0;
         for (int n = script.firstStatement(); n != 0; n = script.after(n)) {
             hall.perform(script, n);
-            journal.keep(hall, script, n, text);
+            keepResult(n);
         }
-        return journal.results();
+        return resultCount;
+    }
+
+    /** Keeps the outcome of a statement as a result, and the statement if it was one of a transaction. */
+    private void keepResult(int n) {
+        if (resultCount >= MOST_RESULTS) {
+            return;
+        }
+        if (answer[resultCount] == null) {
+            answer[resultCount] = new Rows();
+        }
+        Rows rows = answer[resultCount];
+        rows.start(0);
+        if (hall.answer != null) {
+            rows.take(hall.answer, hall.answerFrom, hall.number);
+        }
+        int at = resultCount * RESULT_WIDE;
+        told[at] = script.op(n);
+        told[at + 1] = hall.refusal;
+        told[at + 2] = hall.number;
+        told[at + 3] = hall.refusal == 0 ? NONE : hall.place;
+        told[at + 4] = rows.columns();
+        told[at + 5] = hall.broken();
+        resultCount++;
+        if (hall.ledger.isSerial(hall.transaction)) {
+            addRecord(script.place(n), script.kept(n) + 1);
+        }
+    }
+
+    /** Keeps a statement, whose bytes are those of the text from first up to last, with its outcome. */
+    private void addRecord(int first, int last) {
+        int bytes = Math.min(last, MOST_BYTES) - first;
+        if (bytes <= 0 || first < 0) {
+            return;
+        }
+        if (recordLength + bytes > recordText.length) {
+            recordText = Arrays.copyOf(recordText, 2 * (recordLength + bytes));
+        }
+        System.arraycopy(text, first, recordText, recordLength, bytes);
+        if (records >= answerHash.length) {
+            answerHash = Arrays.copyOf(answerHash, 2 * records + 16);
+            record = Arrays.copyOf(record, (2 * records + 16) * RECORD_WIDE);
+        }
+        int at = records * RECORD_WIDE;
+        record[at + OWNER] = hall.transaction;
+        record[at + FROM] = recordLength;
+        record[at + TO] = recordLength + bytes;
+        record[at + REFUSAL] = hall.refusal;
+        record[at + NUMBER] = hall.number;
+        record[at + COLUMNS] = columnsOf(hall);
+        answerHash[records] = hashOf(hall);
+        records++;
+        recordLength += bytes;
+    }
+
+    private static int columnsOf(Hall of) {
+        return of.answer == null ? 0 : of.answer.columns();
+    }
+
+    private static long hashOf(Hall of) {
+        return of.answer == null ? 0 : of.answer.hash(of.answerFrom, of.number);
     }
 
     /** Promise 6. */
     public int results() {
-        return journal.results();
+        return resultCount;
     }
 
     /** Promise 7. */
     public int result(int index, int what) throws IndexOutOfBoundsException, IllegalArgumentException {
-        if (!journal.has(index)) {
+        if (index < 0 || index >= resultCount || index >= MOST_RESULTS) {
             throw new IndexOutOfBoundsException("no such result");
         }
-        if (what < 0 || what > 5) {
+        if (what < 0 || what >= RESULT_WIDE) {
             throw new IllegalArgumentException("what is out of range");
         }
-        return journal.tell(index, what);
+        return told[index * RESULT_WIDE + what];
     }
 
     /** Promise 8. */
     public boolean isNull(int index, int row, int column) throws IndexOutOfBoundsException {
-        Rows rows = journal.answer(index);
+        Rows rows = answerOf(index);
         if (rows == null || !rows.has(row, column)) {
             throw new IndexOutOfBoundsException("no such result, row or column");
         }
@@ -121,11 +192,15 @@ public final class Snapshothall {
 
     /** Promise 9. */
     public long cell(int index, int row, int column) throws IndexOutOfBoundsException {
-        Rows rows = journal.answer(index);
+        Rows rows = answerOf(index);
         if (rows == null || !rows.has(row, column)) {
             throw new IndexOutOfBoundsException("no such result, row or column");
         }
         return rows.at(row, column);
+    }
+
+    private Rows answerOf(int index) {
+        return index >= 0 && index < resultCount && index < MOST_RESULTS ? answer[index] : null;
     }
 
     /** Promise 10. */
@@ -339,34 +414,36 @@ public final class Snapshothall {
         int work = 0;
         for (int i = 0; i < hall.ledger.toldCount(); i++) {
             int one = hall.ledger.toldAt(i);
-            for (int r = 0; r < journal.records(); r++) {
-                if (journal.transactionOf(r) == one) {
-                    isAlike = isAlikeAnew(r) && isAlike;
-                    work += secondHall.work;
-                    if (work > MOST_SERIAL_WORK) {
-                        throw new IllegalStateException("the work is too much");
-                    }
+            for (int r = 0; r < records; r++) {
+                if (record[r * RECORD_WIDE + OWNER] != one
+                        || parser.read(script, recordText, record[r * RECORD_WIDE + FROM],
+                                record[r * RECORD_WIDE + TO]) != NONE) {
+                    continue;
                 }
+                secondHall.perform(script, script.firstStatement());
+                work += secondHall.work;
+                if (secondHall.refusal == FULL && record[r * RECORD_WIDE + REFUSAL] != FULL) {
+                    // Versions that the hall itself had vacuumed by then may fill the second one.
+                    secondHall.store.vacuum();
+                    secondHall.perform(script, script.firstStatement());
+                }
+                if (work > MOST_SERIAL_WORK) {
+                    throw new IllegalStateException("the work is too much");
+                }
+                isAlike = isAlikeAnew(r) && isAlike;
             }
         }
         return isAlike && hall.store.isLike(secondHall.store);
     }
 
-    /** Does a statement of the journal in the second hall; whether its result is the one kept. */
-    private boolean isAlikeAnew(int record) {
-        if (!journal.readAnew(record, parser, script)) {
-            return false;
+    /** Whether the outcome in the second hall is like the one kept, where that was no CONFLICT or POWER. */
+    private boolean isAlikeAnew(int r) {
+        int at = r * RECORD_WIDE;
+        if (record[at + REFUSAL] == CONFLICT || record[at + REFUSAL] == POWER) {
+            return true;
         }
-        int statement = script.firstStatement();
-        secondHall.perform(script, statement);
-        if (secondHall.refusal == FULL && journal.refusalOf(record) != FULL) {
-            // Versions that the hall itself had vacuumed by then may fill the second one.
-            int work = secondHall.work;
-            secondHall.store.vacuum();
-            secondHall.perform(script, statement);
-            secondHall.work = Math.max(work, secondHall.work);
-        }
-        return journal.isLike(record, secondHall);
+        return record[at + REFUSAL] == secondHall.refusal && record[at + NUMBER] == secondHall.number
+                && record[at + COLUMNS] == columnsOf(secondHall) && answerHash[r] == hashOf(secondHall);
     }
 
     /** Promise 34. */
@@ -430,14 +507,10 @@ public final class Snapshothall {
             }
             Arrays.fill(field, at * WIDE, at * WIDE + WIDE, 0);
             value[at] = 0;
+            field[at * WIDE + KIND] = kind;
+            field[at * WIDE + PLACE] = place;
             end++;
-            put(end - 1, KIND, kind);
-            put(end - 1, PLACE, place);
             return end - 1;
-        }
-
-        private int get(int node, int what) {
-            return node >= base && node < end ? field[(node - base) * WIDE + what] : 0;
         }
 
         void put(int node, int what, int number) {
@@ -454,17 +527,18 @@ public final class Snapshothall {
 
         /** Puts a node behind the last one of a list; answers it. */
         int link(int last, int node) {
-            if (last != 0) {
-                put(last, NEXT, node);
-            } else if (first == 0) {
-                first = node;
-            }
+            put(last, NEXT, node);
+            return node;
+        }
+
+        int startAt(int node) {
+            first = node;
             return node;
         }
 
         /** The next one of a list; the nodes of a list have growing numbers. */
         int after(int node) {
-            int next = get(node, NEXT);
+            int next = node >= base && node < end ? field[(node - base) * WIDE + NEXT] : 0;
             return next > node ? next : 0;
         }
 
@@ -481,39 +555,39 @@ public final class Snapshothall {
         }
 
         int kind(int node) {
-            return get(node, KIND);
+            return node >= base && node < end ? field[(node - base) * WIDE + KIND] : 0;
         }
 
         int place(int node) {
-            return get(node, PLACE);
+            return node >= base && node < end ? field[(node - base) * WIDE + PLACE] : 0;
         }
 
         int a(int node) {
-            return get(node, A);
+            return node >= base && node < end ? field[(node - base) * WIDE + A] : 0;
         }
 
         int b(int node) {
-            return get(node, B);
+            return node >= base && node < end ? field[(node - base) * WIDE + B] : 0;
         }
 
         int c(int node) {
-            return get(node, C);
+            return node >= base && node < end ? field[(node - base) * WIDE + C] : 0;
         }
 
         int d(int node) {
-            return get(node, D);
+            return node >= base && node < end ? field[(node - base) * WIDE + D] : 0;
         }
 
         int e(int node) {
-            return get(node, E);
+            return node >= base && node < end ? field[(node - base) * WIDE + E] : 0;
         }
 
         int op(int node) {
-            return get(node, OP);
+            return node >= base && node < end ? field[(node - base) * WIDE + OP] : 0;
         }
 
         int kept(int node) {
-            return get(node, TYPE);
+            return node >= base && node < end ? field[(node - base) * WIDE + TYPE] : 0;
         }
 
         long value(int node) {
@@ -530,15 +604,6 @@ public final class Snapshothall {
             return kind(test) == AND ? after(part) : 0;
         }
 
-        /** Whether one of the nodes from first up to last is of this kind. */
-        boolean holds(int kind, int first, int last) {
-            for (int n = first; n < last; n++) {
-                if (kind(n) == kind) {
-                    return true;
-                }
-            }
-            return false;
-        }
     }
 
     /** Reads texts by the grammar of section 2 into trees, and finds their faults. */
@@ -569,9 +634,15 @@ public final class Snapshothall {
 
         private final long[] keyword = new long[KEYWORD_COUNT];
         private Tree tree;
+        // The tokens of the text, up to its end or the first byte that begins none.
+        private final int[] kinds = new int[MANY];
+        private final int[] places = new int[MANY];
+        private final int[] ends = new int[MANY];
+        private final long[] values = new long[MANY];
         private byte[] text;
         private int at;
         private int end;
+        private int next;
         private int token;
         private int place;
         private long tokenValue;
@@ -600,47 +671,53 @@ public final class Snapshothall {
             text = from;
             at = Math.max(0, first);
             end = Math.min(last, from.length);
+            lex();
             fault = NONE;
             open = 0;
-            level = 0;
             itemsOf = 0;
+            next = 0;
             step();
-            script();
+            int session = 0;
+            int latest = 0;
+            for (int i = 0; i < MOST_STATEMENTS && token != END && fault == NONE; i++) {
+                if (token == NUMBER) {
+                    session = digit();
+                }
+                int n = statement(session);
+                latest = latest == 0 ? tree.startAt(n) : tree.link(latest, n);
+            }
+            if (token != END) {
+                fail();
+            }
             return fault;
         }
 
         // tokens
 
-        private void fail() {
-            if (fault == NONE) {
-                fault = place;
-            }
-            token = BAD;
-        }
-
-        /** Goes to the next token; behind a fault there is none. */
-        private void step() {
-            if (fault != NONE) {
-                return;
-            }
-            while (at < end && text[at] == ' ') {
-                at++;
-            }
-            place = at;
-            tokenValue = 0;
-            if (at >= end) {
-                token = END;
-                return;
-            }
-            int one = text[at];
-            if (isLetter(one)) {
-                letters();
-            } else if (isDigit(one)) {
-                digits();
-            } else if (one == '\'') {
-                quoted();
-            } else {
-                sign(one);
+        /** Finds the tokens of the text. */
+        private void lex() {
+            token = 0;
+            for (int i = 0; i < MANY && token != END && token != BAD; i++) {
+                while (at < end && text[at] == ' ') {
+                    at++;
+                }
+                places[i] = at;
+                tokenValue = 0;
+                int one = at < end ? text[at] : 0;
+                if (at >= end) {
+                    token = END;
+                } else if (isLetter(one)) {
+                    letters();
+                } else if (isDigit(one)) {
+                    digits();
+                } else if (one == '\'') {
+                    quoted();
+                } else {
+                    sign(one);
+                }
+                kinds[i] = token;
+                ends[i] = at;
+                values[i] = tokenValue;
             }
         }
 
@@ -707,6 +784,23 @@ public final class Snapshothall {
             at += token > BAD ? 2 : 1;
         }
 
+        private void fail() {
+            if (fault == NONE) {
+                fault = place;
+            }
+            token = BAD;
+        }
+
+        /** Goes to the next token; behind a fault, and behind the last one, there is none. */
+        private void step() {
+            if (fault == NONE && next < MANY) {
+                token = kinds[next];
+                place = places[next];
+                tokenValue = values[next];
+                next++;
+            }
+        }
+
         private boolean take(int wanted) {
             if (token != wanted) {
                 return false;
@@ -716,7 +810,9 @@ public final class Snapshothall {
         }
 
         private void need(int wanted) {
-            if (!take(wanted)) {
+            if (token == wanted) {
+                step();
+            } else {
                 fail();
             }
         }
@@ -739,43 +835,32 @@ public final class Snapshothall {
             need(wanted);
         }
 
-        private long name() {
-            long read = tokenValue;
-            need(NAME);
-            return read;
-        }
-
         private int nameNode() {
             int n = tree.add(Tree.NAME, place);
-            tree.putValue(n, name());
+            tree.putValue(n, tokenValue);
+            if (token == NAME) {
+                step();
+            } else {
+                fail();
+            }
             return n;
         }
 
         private int number() {
             int read = (int) tokenValue;
-            need(NUMBER);
+            if (token == NUMBER) {
+                step();
+            } else {
+                fail();
+            }
             return read;
         }
 
         // statements
 
-        private void script() {
-            int session = 0;
-            int last = 0;
-            for (int i = 0; i < MOST_STATEMENTS && token != END && fault == NONE; i++) {
-                if (token == NUMBER) {
-                    session = digit();
-                }
-                last = tree.link(last, statement(session));
-            }
-            if (token != END) {
-                fail();
-            }
-        }
-
         private int digit() {
             int read = (int) tokenValue;
-            if (at - place > 1 || read > 3) {
+            if (next < 1 || ends[next - 1] - place > 1 || read > 3) {
                 fail();
             }
             need(NUMBER);
@@ -790,7 +875,11 @@ public final class Snapshothall {
             switch (token) {
                 case CREATE:
                     step();
-                    create(n);
+                    if (token == TABLE) {
+                        createTable(n);
+                    } else {
+                        createOther(n);
+                    }
                     break;
                 case DROP:
                     step();
@@ -878,19 +967,18 @@ public final class Snapshothall {
         private void named(int n, int kind) {
             tree.put(n, Tree.KIND, kind);
             tree.put(n, Tree.D, place);
-            tree.putValue(n, name());
+            tree.putValue(n, tokenValue);
+            need(NAME);
         }
 
-        private void create(int n) {
+        private void createOther(int n) {
             int word = token;
-            if (word != TABLE && word != INDEX && word != VIEW) {
+            if (word != INDEX && word != VIEW) {
                 fail();
                 return;
             }
             step();
-            if (word == TABLE) {
-                createTable(n);
-            } else if (word == INDEX) {
+            if (word == INDEX) {
                 named(n, Tree.CREATE_INDEX);
                 need(ON);
                 tree.put(n, Tree.A, nameNode());
@@ -905,6 +993,7 @@ public final class Snapshothall {
         }
 
         private void createTable(int n) {
+            step();
             named(n, Tree.CREATE_TABLE);
             level = 1;
             enter('(');
@@ -934,7 +1023,8 @@ public final class Snapshothall {
 
         private int column() {
             int n = tree.add(Tree.COLUMN, place);
-            tree.putValue(n, name());
+            tree.putValue(n, tokenValue);
+            need(NAME);
             tree.put(n, Tree.A, token == INT_WORD ? INT : WORD);
             if (!take(INT_WORD)) {
                 need(WORD_WORD);
@@ -1037,7 +1127,8 @@ public final class Snapshothall {
 
         private int set() {
             int n = tree.add(Tree.SET, place);
-            tree.putValue(n, name());
+            tree.putValue(n, tokenValue);
+            need(NAME);
             need('=');
             tree.put(n, Tree.A, sum());
             return n;
@@ -1079,19 +1170,18 @@ public final class Snapshothall {
         }
 
         private int keys() {
-            int first = key();
-            int last = first;
-            for (int i = 1; i < MOST_KEYS && take(','); i++) {
-                last = tree.link(last, key());
+            int first = 0;
+            int last = 0;
+            boolean isMore = true;
+            for (int i = 1; i <= MOST_KEYS && isMore; i++) {
+                int n = tree.add(Tree.KEY, place);
+                tree.putValue(n, number());
+                tree.put(n, Tree.A, take(DOWN) ? 1 : 0);
+                first = i == 1 ? n : first;
+                last = i == 1 ? n : tree.link(last, n);
+                isMore = i < MOST_KEYS && take(',');
             }
             return first;
-        }
-
-        private int key() {
-            int n = tree.add(Tree.KEY, place);
-            tree.putValue(n, number());
-            tree.put(n, Tree.A, take(DOWN) ? 1 : 0);
-            return n;
         }
 
         /** Reads a block; the node behind its own one is its head, which keeps the rest of it. */
@@ -1113,7 +1203,11 @@ public final class Snapshothall {
             tree.put(n, Tree.C, where());
             if (take(GROUP)) {
                 need(BY);
-                tree.put(n, Tree.D, grouping());
+                int last = ref();
+                tree.put(n, Tree.D, last);
+                for (int i = 1; i < MOST_GROUPED && take(','); i++) {
+                    last = tree.link(last, ref());
+                }
             }
             if (take(HAVING)) {
                 tree.put(head, Tree.A, test());
@@ -1159,18 +1253,10 @@ public final class Snapshothall {
 
         private int source() {
             int n = tree.add(Tree.SOURCE, place);
-            tree.putValue(n, name());
+            tree.putValue(n, tokenValue);
+            need(NAME);
             tree.put(n, Tree.A, take(AS) ? nameNode() : 0);
             return n;
-        }
-
-        private int grouping() {
-            int first = ref();
-            int last = first;
-            for (int i = 1; i < MOST_GROUPED && take(','); i++) {
-                last = tree.link(last, ref());
-            }
-            return first;
         }
 
         // tests
@@ -1363,11 +1449,14 @@ public final class Snapshothall {
 
         private int ref() {
             int n = tree.add(Tree.REF, place);
+            int first = tree.add(Tree.NAME, place);
             tree.putValue(n, tokenValue);
-            int first = nameNode();
+            tree.putValue(first, tokenValue);
+            need(NAME);
             if (take('.')) {
                 tree.put(n, Tree.A, first);
-                tree.putValue(n, name());
+                tree.putValue(n, tokenValue);
+                need(NAME);
             }
             return n;
         }
@@ -1510,16 +1599,16 @@ public final class Snapshothall {
         }
 
         long at(int row, int column) {
-            return has(row, column) ? cell[row * width + column] : 0;
+            return row >= 0 && row < count && column >= 0 && column < columns ? cell[row * width + column] : 0;
         }
 
         boolean lacks(int row, int column) {
-            return !has(row, column)
+            return row < 0 || row >= count || column < 0 || column >= columns
                     || (cell[row * width + columns + (column >> 6)] >>> (column & 63) & 1) != 0;
         }
 
         void put(int row, int column, long value, boolean isNull) {
-            if (!has(row, column)) {
+            if (row < 0 || row >= count || column < 0 || column >= columns) {
                 return;
             }
             int mask = row * width + columns + (column >> 6);
@@ -1638,11 +1727,16 @@ public final class Snapshothall {
 
         /** Compares the values of two rows in a column; NULL is less than all others. */
         int compareAt(int row, int other, int column) {
-            boolean isNull = lacks(row, column);
-            if (isNull || lacks(other, column)) {
-                return isNull ? lacks(other, column) ? 0 : -1 : 1;
+            if (row < 0 || row >= count || other < 0 || other >= count || column < 0 || column >= columns) {
+                return 0;
             }
-            return Long.compare(at(row, column), at(other, column));
+            int mask = columns + (column >> 6);
+            boolean isNull = (cell[row * width + mask] >>> (column & 63) & 1) != 0;
+            boolean isOtherNull = (cell[other * width + mask] >>> (column & 63) & 1) != 0;
+            if (isNull || isOtherNull) {
+                return isNull ? isOtherNull ? 0 : -1 : 1;
+            }
+            return Long.compare(cell[row * width + column], cell[other * width + column]);
         }
 
         /** Tells the words of a column as the face does. */
@@ -1742,15 +1836,15 @@ public final class Snapshothall {
         }
 
         long nameOf(int column) {
-            return hasColumn(column) && column < columnName.length ? columnName[column] : 0;
+            return column >= 0 && column < columns && column < columnName.length ? columnName[column] : 0;
         }
 
         int kindOf(int column) {
-            return hasColumn(column) && column < columnType.length ? columnType[column] : 0;
+            return column >= 0 && column < columns && column < columnType.length ? columnType[column] : 0;
         }
 
         boolean isNotNull(int column) {
-            return hasColumn(column) && (notNull >> column & 1) != 0;
+            return column >= 0 && column < columns && (notNull >> column & 1) != 0;
         }
 
         int find(long itsName) {
@@ -1834,30 +1928,28 @@ public final class Snapshothall {
         // versions
 
         int count() {
-            return versions.count();
-        }
-
-        private int ofVersion(int place, int what) {
-            return place >= 0 && place < count() && place < MOST_VERSIONS && info.length > 0
-                    ? info[place * WIDE + what] : NONE;
+            return versions.count;
         }
 
         private void put(int place, int what, int number) {
-            if (place >= 0 && place < count() && place < MOST_VERSIONS && info.length > 0) {
+            if (place >= 0 && place < versions.count && place < info.length / WIDE) {
                 info[place * WIDE + what] = number;
             }
         }
 
         int maker(int place) {
-            return ofVersion(place, MADE);
+            return place >= 0 && place < versions.count && place < info.length / WIDE
+                    ? info[place * WIDE + MADE] : NONE;
         }
 
         int ender(int place) {
-            return ofVersion(place, ENDED);
+            return place >= 0 && place < versions.count && place < info.length / WIDE
+                    ? info[place * WIDE + ENDED] : NONE;
         }
 
         boolean isDead(int place) {
-            return ofVersion(place, DEAD) == 1;
+            return place >= 0 && place < versions.count && place < info.length / WIDE
+                    && info[place * WIDE + DEAD] == 1;
         }
 
         long told(int place, int column) {
@@ -1882,21 +1974,22 @@ public final class Snapshothall {
 
         /** Takes back what a transaction made and ended behind a statement. */
         void takeBack(int transaction, int statement) {
-            for (int p = 0; p < count(); p++) {
-                if (maker(p) == transaction && ofVersion(p, MADE_AT) > statement) {
-                    put(p, DEAD, 1);
+            for (int p = 0; p < versions.count && p < info.length / WIDE; p++) {
+                int at = p * WIDE;
+                if (info[at + MADE] == transaction && info[at + MADE_AT] > statement) {
+                    info[at + DEAD] = 1;
                 }
-                if (ender(p) == transaction && ofVersion(p, ENDED_AT) > statement) {
-                    end(p, NONE, 0);
+                if (info[at + ENDED] == transaction && info[at + ENDED_AT] > statement) {
+                    info[at + ENDED] = NONE;
                 }
             }
         }
 
         /** Moves a version to an earlier place. */
         void move(int to, int from) {
-            versions.copy(to, versions, from);
-            for (int i = 0; i < WIDE; i++) {
-                put(to, i, ofVersion(from, i));
+            if (to >= 0 && to < from && from < versions.count && from < info.length / WIDE) {
+                versions.copy(to, versions, from);
+                System.arraycopy(info, from * WIDE, info, to * WIDE, WIDE);
             }
         }
 
@@ -2115,8 +2208,7 @@ public final class Snapshothall {
     /** Transactions, what they looked at and wrote, and the edges that come of it. */
     private static final class Ledger {
         static final int MOST = 200;
-        static final int RANGE = 0, VALUES = 1;
-        private static final int WRITE = 2;
+        static final int RANGE = 0, VALUES = 1, WRITE = 2;
         private static final int PHASE = 0, SERIAL = 1, SNAPSHOT = 2, STAMP = 3, BEGUN = 4, ENDED = 5, MARKS = 6;
         private static final int WIDE = 8, WORDS = 4;
         private static final int OWNER = 0, KIND = 1, TABLE = 2, BITS = 3, NEXT = 4, TRACE_WIDE = 5;
@@ -2131,6 +2223,8 @@ public final class Snapshothall {
         /** The marks and written rows of transactions that can still get edges, in chains by owner. */
         private int[] trace = new int[0];
         private final Rows traced = new Rows();
+        /** So many of them stand in chains; the others are of the statement that is done now. */
+        private int chained;
         private final int[] firstMark = new int[MOST];
         private final int[] firstWrite = new int[MOST];
         private final int[] live = new int[MOST];
@@ -2151,6 +2245,7 @@ public final class Snapshothall {
             lives = 0;
             tolds = 0;
             isStale = false;
+            chained = 0;
             traced.start(MOST_COLUMNS);
             Arrays.fill(edge, 0);
         }
@@ -2168,33 +2263,34 @@ public final class Snapshothall {
         }
 
         int tell(int one, int what) {
-            return has(one) && what >= 0 && what < WIDE ? info[one * WIDE + what] : NONE;
+            return one >= 0 && one < count && one < MOST && what >= 0 && what < WIDE ? info[one * WIDE + what] : NONE;
         }
 
         private void put(int one, int what, int number) {
-            if (has(one)) {
+            if (one >= 0 && one < count && one < MOST) {
                 info[one * WIDE + what] = number;
             }
         }
 
         boolean isSerial(int one) {
-            return tell(one, SERIAL) == 1;
+            return one >= 0 && one < count && one < MOST && info[one * WIDE + SERIAL] == 1;
         }
 
         int snapshot(int one) {
-            return has(one) ? tell(one, SNAPSHOT) : clock;
+            return one >= 0 && one < count && one < MOST ? info[one * WIDE + SNAPSHOT] : clock;
         }
 
         boolean isOpen(int one) {
-            return tell(one, PHASE) == OPEN;
+            return one >= 0 && one < count && one < MOST && info[one * WIDE + PHASE] == OPEN;
         }
 
         boolean hasCommitted(int one) {
-            return tell(one, PHASE) == COMMITTED;
+            return one >= 0 && one < count && one < MOST && info[one * WIDE + PHASE] == COMMITTED;
         }
 
         boolean hasCommittedBy(int one, int time) {
-            return hasCommitted(one) && tell(one, STAMP) <= time;
+            return one >= 0 && one < count && one < MOST && info[one * WIDE + PHASE] == COMMITTED
+                    && info[one * WIDE + STAMP] <= time;
         }
 
         /** Begins a transaction; answers its number, NONE if there can be no more. */
@@ -2224,7 +2320,6 @@ public final class Snapshothall {
             put(one, ENDED, moments);
             moments++;
             isStale = true;
-            sweep();
         }
 
         void rollBack(int one) {
@@ -2236,7 +2331,6 @@ public final class Snapshothall {
                 edge[i * WORDS + (one >> 6)] &= ~(1L << (one & 63));
             }
             Arrays.fill(edge, one * WORDS, one * WORDS + WORDS, 0);
-            sweep();
         }
 
         // what is seen
@@ -2250,56 +2344,54 @@ public final class Snapshothall {
             return ender == NONE || ender != one && !hasCommittedBy(ender, snapshot);
         }
 
-        /** Whether a version that a transaction does not see can still come to stand. */
-        boolean canStand(Table table, int place, int one, int snapshot) {
+        /** Whether a version that a transaction does not see, and did not end, can still come to stand. */
+        boolean canStand(Table table, int place, int one) {
             int ender = table.ender(place);
-            return !table.isDead(place) && (ender == NONE || ender != one && !hasCommitted(ender))
-                    && !sees(table, place, one, snapshot);
+            return !table.isDead(place) && (ender == NONE || ender != one && !hasCommitted(ender));
         }
 
         // marks and writes
 
-        /** Gives a transaction a mark; the row tells first and last key of a range, or the values of columns. */
-        void mark(int one, int kind, int table, int bits, Rows rows, int row) {
-            if (!isSerial(one)) {
-                return;
-            }
-            put(one, MARKS, tell(one, MARKS) + 1);
-            int mark = addTrace(one, kind, table, bits, rows, row);
-            if (isKnown(mark)) {
-                traced.cut(mark);
-                return;
-            }
-            chain(mark);
-            for (int i = 0; i < lives; i++) {
-                int other = live[i];
-                if (other != one && !leads(one, other) && areConcurrent(one, other)
-                        && isHit(mark, firstWrite[other])) {
-                    addEdge(one, other);
+        /** Finds the edges that come of the marks and writes of the statement that ends. */
+        void findEdges() {
+            int all = traced.count();
+            int kept = chained;
+            for (int i = chained; i < all; i++) {
+                int one = ofTrace(i, OWNER);
+                boolean isWrite = ofTrace(i, KIND) == WRITE;
+                if (!has(one) || !isWrite && isKnown(i, kept)) {
+                    continue;
                 }
-            }
-        }
-
-        void write(int one, int table, Rows rows, int row) {
-            if (!isSerial(one)) {
-                return;
-            }
-            int write = addTrace(one, WRITE, table, (1 << rows.columns()) - 1, rows, row);
-            chain(write);
-            for (int i = 0; i < lives; i++) {
-                int other = live[i];
-                if (other != one && !leads(other, one) && areConcurrent(one, other)
-                        && isHit(firstMark[other], write)) {
-                    addEdge(other, one);
+                move(kept, i);
+                chain(kept);
+                for (int l = 0; l < lives; l++) {
+                    int other = live[l];
+                    int from = isWrite ? other : one;
+                    int to = isWrite ? one : other;
+                    if (other != one && !leads(from, to) && isBefore(one, other) && isBefore(other, one)
+                            && isHit(kept, isWrite ? firstMark[other] : firstWrite[other])) {
+                        edge[from * WORDS + (to >> 6)] |= 1L << (to & 63);
+                    }
                 }
+                kept++;
             }
+            traced.cut(kept);
+            chained = kept;
         }
 
         private int ofTrace(int i, int what) {
-            return i >= 0 && i < traced.count() ? trace[i * TRACE_WIDE + what] : NONE;
+            return i >= 0 && i < trace.length / TRACE_WIDE ? trace[i * TRACE_WIDE + what] : NONE;
         }
 
-        private int addTrace(int one, int kind, int table, int bits, Rows rows, int row) {
+        /**
+         * Keeps a mark of a transaction, or a row that it wrote. The row tells the first and the last key of
+         * a range, otherwise the values of the columns of these bits.
+         */
+        void trace(int one, int kind, int table, int bits, Rows rows, int row) {
+            if (!isSerial(one)) {
+                return;
+            }
+            info[one * WIDE + MARKS] += kind == WRITE ? 0 : 1;
             int i = traced.add();
             int from = i * TRACE_WIDE;
             if (from + TRACE_WIDE > trace.length) {
@@ -2315,11 +2407,18 @@ public final class Snapshothall {
                     traced.put(i, c, rows.at(row, c), rows.lacks(row, c));
                 }
             }
-            return i;
         }
 
-        private boolean isKnown(int mark) {
-            for (int i = mark - 1; i >= 0 && i >= mark - LOOK_BACK; i--) {
+        private void move(int to, int from) {
+            if (to != from) {
+                traced.copy(to, traced, from);
+                System.arraycopy(trace, from * TRACE_WIDE, trace, to * TRACE_WIDE, TRACE_WIDE);
+            }
+        }
+
+        /** Whether a mark is like one of the latest that stand ahead of a place. */
+        private boolean isKnown(int mark, int place) {
+            for (int i = place - 1; i >= 0 && i >= place - LOOK_BACK; i--) {
                 boolean isSame = true;
                 for (int what = OWNER; what <= BITS; what++) {
                     isSame = isSame && ofTrace(i, what) == ofTrace(mark, what);
@@ -2334,7 +2433,7 @@ public final class Snapshothall {
         /** Puts a trace at the head of the chain of its owner. */
         private void chain(int i) {
             int owner = ofTrace(i, OWNER);
-            if (!has(owner)) {
+            if (owner < 0 || owner >= count || owner >= MOST) {
                 return;
             }
             if (firstMark[owner] == NONE && firstWrite[owner] == NONE && lives < MOST) {
@@ -2346,12 +2445,12 @@ public final class Snapshothall {
             first[owner] = i;
         }
 
-        /** Whether one of a mark and a write, or one of those behind it in its chain, hits the other one. */
-        private boolean isHit(int mark, int write) {
-            boolean isWriteNew = write > mark;
-            int i = isWriteNew ? mark : write;
+        /** Whether a mark and a write hit, one of which is a trace and the other one stands in a chain. */
+        private boolean isHit(int trace, int first) {
+            boolean isWrite = ofTrace(trace, KIND) == WRITE;
+            int i = first;
             while (i != NONE) {
-                if (isWriteNew ? isRowOf(i, write) : isRowOf(mark, i)) {
+                if (isWrite ? isRowOf(i, trace) : isRowOf(trace, i)) {
                     return true;
                 }
                 int next = ofTrace(i, NEXT);
@@ -2361,7 +2460,7 @@ public final class Snapshothall {
         }
 
         private boolean isRowOf(int mark, int write) {
-            if (mark == NONE || write == NONE || ofTrace(mark, TABLE) != ofTrace(write, TABLE)) {
+            if (ofTrace(mark, TABLE) != ofTrace(write, TABLE)) {
                 return false;
             }
             int bits = ofTrace(mark, BITS);
@@ -2378,7 +2477,7 @@ public final class Snapshothall {
         }
 
         /** Forgets the traces of those that can get no more edges: concurrent to none that is open. */
-        private void sweep() {
+        void sweep() {
             if (traced.count() == 0) {
                 return;
             }
@@ -2396,34 +2495,25 @@ public final class Snapshothall {
             for (int i = 0; i < all; i++) {
                 int owner = ofTrace(i, OWNER);
                 if (isOpen(owner) || hasCommitted(owner) && tell(owner, ENDED) > begun) {
-                    traced.copy(kept, traced, i);
-                    System.arraycopy(trace, i * TRACE_WIDE, trace, kept * TRACE_WIDE, TRACE_WIDE);
+                    move(kept, i);
                     chain(kept);
                     kept++;
                 }
             }
             traced.cut(kept);
+            chained = kept;
         }
 
         // edges
 
-        private boolean areConcurrent(int one, int other) {
-            return isBefore(one, other) && isBefore(other, one);
-        }
-
         /** Whether one began ahead of the commit of the other one, which was not rolled back. */
         private boolean isBefore(int one, int other) {
-            return isOpen(other) || hasCommitted(other) && tell(one, BEGUN) < tell(other, ENDED);
-        }
-
-        private void addEdge(int from, int to) {
-            if (has(from) && has(to)) {
-                edge[from * WORDS + (to >> 6)] |= 1L << (to & 63);
-            }
+            return isOpen(other) || hasCommitted(other) && info[one * WIDE + BEGUN] < info[other * WIDE + ENDED];
         }
 
         boolean leads(int from, int to) {
-            return has(from) && has(to) && (edge[from * WORDS + (to >> 6)] >>> (to & 63) & 1) != 0;
+            return from >= 0 && from < count && to >= 0 && to < count
+                    && (edge[from * WORDS + (to >> 6)] >>> (to & 63) & 1) != 0;
         }
 
         int edgesFrom(int one) {
@@ -2508,7 +2598,7 @@ public final class Snapshothall {
         private boolean isFree(int one) {
             for (int i = 0; i < count; i++) {
                 if (i != one && hasCommitted(i) && isSerial(i) && !isTold[i]
-                        && (tell(i, ENDED) < tell(one, BEGUN) || leads(i, one))) {
+                        && (info[i * WIDE + ENDED] < info[one * WIDE + BEGUN] || leads(i, one))) {
                     return false;
                 }
             }
@@ -2566,9 +2656,8 @@ public final class Snapshothall {
         }
 
         private int findBetween(long name, int first, int last) {
-            for (int i = first; i < last; i++) {
-                Table one = at(i);
-                if (one != null && one.name == name) {
+            for (int i = first; i < last && i < PLACES; i++) {
+                if (table[i] != null && table[i].isThere && table[i].name == name) {
                     return i;
                 }
             }
@@ -2692,16 +2781,18 @@ public final class Snapshothall {
             if (one != null) {
                 one.tree.copy(tree, statement, tree.e(statement));
                 one.open();
-                addIndex(0, made, 1 << one.key, tree, 0);
+                Index ofKey = freshIndex(0, made);
+                if (ofKey != null) {
+                    ofKey.addColumn(one.key);
+                }
                 made++;
             }
         }
 
-        /** Makes an index: on the columns of these bits, or on those that a list of names tells. */
-        void addIndex(long name, int itsTable, int bits, Tree tree, int names) {
-            Table of = at(itsTable);
-            if (of == null || indexesMade >= MOST_INDEXES_MADE) {
-                return;
+        /** An index that is there from now on, without columns as yet, or null. */
+        private Index freshIndex(long name, int itsTable) {
+            if (indexesMade >= MOST_INDEXES_MADE) {
+                return null;
             }
             if (index[indexesMade] == null) {
                 index[indexesMade] = new Index();
@@ -2709,8 +2800,15 @@ public final class Snapshothall {
             Index one = index[indexesMade];
             one.clear(indexesMade, name, itsTable);
             indexesMade++;
-            if (bits > 0) {
-                one.addColumn(Integer.numberOfTrailingZeros(bits));
+            return one;
+        }
+
+        /** Makes an index on the columns that a list of names tells. */
+        void addIndex(long name, int itsTable, Tree tree, int names) {
+            Table of = at(itsTable);
+            Index one = of == null ? null : freshIndex(name, itsTable);
+            if (one == null) {
+                return;
             }
             for (int n = names; n != 0; n = tree.after(n)) {
                 one.addColumn(of.find(tree.value(n)));
@@ -2760,16 +2858,6 @@ public final class Snapshothall {
             one.empty();
             for (int p = 0; of != null && p < of.count(); p++) {
                 one.enter(of.versions, p);
-            }
-        }
-
-        /** Puts the entries of a version into the indexes of its table. */
-        void enter(Table of, int place) {
-            for (int i = 0; i < MOST_INDEXES_MADE; i++) {
-                Index one = indexAt(i);
-                if (one != null && one.table == of.number) {
-                    one.enter(of.versions, place);
-                }
             }
         }
 
@@ -3324,48 +3412,49 @@ public final class Snapshothall {
         }
 
         private int itemType(Tree of, int block, int item) {
-            if (of.b(block + 1) == NONE) {
-                return of.kept(itemAt(of, block, item));
-            }
-            int column = item;
-            for (int s = of.b(block); s != 0; s = of.after(s)) {
-                Table one = store.at(of.c(s) - 1);
-                if (one != null && column < one.columns) {
-                    return one.kindOf(column);
+            int left = item;
+            for (int n = of.a(block); n != 0; n = of.after(n)) {
+                if (left == 0) {
+                    return of.kept(n);
                 }
-                column -= one == null ? 0 : one.columns;
+                left--;
+            }
+            for (int s = of.b(block); s != 0 && of.b(block + 1) != NONE; s = of.after(s)) {
+                Table one = store.at(of.c(s) - 1);
+                if (one != null && left < one.columns) {
+                    return one.kindOf(left);
+                }
+                left -= one == null ? 0 : one.columns;
             }
             return ANY;
         }
 
-        private int itemAt(Tree of, int block, int item) {
-            int n = of.a(block);
-            for (int i = 0; i < item && n != 0; i++) {
-                n = of.after(n);
-            }
-            return n;
-        }
-
         /** The name of a column of a block's answer; 0 if it has none. */
-        private long nameOf(Tree of, int block, int item) {
-            if (of.b(block + 1) == NONE) {
-                int n = itemAt(of, block, item);
-                int alias = of.b(n);
-                int inner = of.a(n);
-                for (int i = 0; i < MOST_DEPTH && of.kind(inner) == Tree.PAREN; i++) {
-                    inner = of.a(inner);
+        private long itemName(Tree of, int block, int item) {
+            int left = item;
+            for (int n = of.a(block); n != 0; n = of.after(n)) {
+                if (left == 0) {
+                    return of.b(n) != 0 ? of.value(of.b(n)) : refName(of, of.a(n));
                 }
-                return alias != 0 ? of.value(alias) : of.kind(inner) == Tree.REF ? of.value(inner) : 0;
+                left--;
             }
-            int column = item;
-            for (int s = of.b(block); s != 0; s = of.after(s)) {
+            for (int s = of.b(block); s != 0 && of.b(block + 1) != NONE; s = of.after(s)) {
                 Table one = store.at(of.c(s) - 1);
-                if (one != null && column < one.columns) {
-                    return one.nameOf(column);
+                if (one != null && left < one.columns) {
+                    return one.nameOf(left);
                 }
-                column -= one == null ? 0 : one.columns;
+                left -= one == null ? 0 : one.columns;
             }
             return 0;
+        }
+
+        /** The name that a sum tells if it is a ref, in brackets or not. */
+        private static long refName(Tree of, int sum) {
+            int inner = sum;
+            for (int i = 0; i < MOST_DEPTH && of.kind(inner) == Tree.PAREN; i++) {
+                inner = of.a(inner);
+            }
+            return of.kind(inner) == Tree.REF ? of.value(inner) : 0;
         }
 
         /** Gives a view the columns of its query. */
@@ -3374,7 +3463,7 @@ public final class Snapshothall {
             int items = (int) view.tree.value(block);
             for (int i = 0; i < items; i++) {
                 int type = typeOf(view.tree, view.query, i);
-                view.addColumn(nameOf(view.tree, block, i), type == ANY ? INT : type, false);
+                view.addColumn(itemName(view.tree, block, i), type == ANY ? INT : type, false);
             }
         }
 
@@ -4021,13 +4110,15 @@ public final class Snapshothall {
             into.put(0, 0, Long.MIN_VALUE, false);
             into.put(0, 1, Long.MAX_VALUE, false);
             for (int p = tree.firstPart(test); p != 0; p = tree.nextPart(test, p)) {
-                if (tree.kind(p) != Tree.COMPARE) {
+                if (tree.kind(p) != Tree.COMPARE || tree.c(p) == Parser.UNLIKE) {
                     continue;
                 }
                 if (isRef(tree.a(p), depth, itsSource, column) && isConstant(tree.e(p), p)) {
-                    narrow(into, tree.c(p), tree.b(p));
+                    long one = value(tree.b(p));
+                    narrow(into, tree.c(p), one, isBlank);
                 } else if (isRef(tree.b(p), depth, itsSource, column) && isConstant(tree.d(p), tree.e(p))) {
-                    narrow(into, mirrored(tree.c(p)), tree.a(p));
+                    long one = value(tree.a(p));
+                    narrow(into, mirrored(tree.c(p)), one, isBlank);
                 }
             }
         }
@@ -4037,7 +4128,12 @@ public final class Snapshothall {
         }
 
         private boolean isConstant(int first, int last) {
-            return !tree.holds(Tree.REF, first, last) && !tree.holds(Tree.QUERY, first, last);
+            for (int n = first; n < last; n++) {
+                if (tree.kind(n) == Tree.REF || tree.kind(n) == Tree.QUERY) {
+                    return false;
+                }
+            }
+            return true;
         }
 
         /** The sign that tells the same with its sides changed. */
@@ -4056,12 +4152,8 @@ public final class Snapshothall {
             }
         }
 
-        private void narrow(Rows range, int sign, int sum) {
-            if (sign == Parser.UNLIKE) {
-                return;
-            }
-            long one = value(sum);
-            boolean isEmpty = isBlank || sign == '<' && one == Long.MIN_VALUE || sign == '>' && one == Long.MAX_VALUE;
+        private static void narrow(Rows range, int sign, long one, boolean isNull) {
+            boolean isEmpty = isNull || sign == '<' && one == Long.MIN_VALUE || sign == '>' && one == Long.MAX_VALUE;
             long low = range.at(0, 0);
             long high = range.at(0, 1);
             if (sign == '=' || sign == Parser.AT_LEAST || sign == '>') {
@@ -4113,6 +4205,9 @@ public final class Snapshothall {
         /** The orders of three sources; those of fewer are the ones that leave the others at the end. */
         private static final int[] ORDERS = {0, 1, 2, 0, 2, 1, 1, 0, 2, 1, 2, 0, 2, 0, 1, 2, 1, 0};
         private static final int ORDER_COUNT = 6;
+        private static final int SOURCE = 0, COLUMN = 1, BOUND = 2, NEEDED = 3, PART_WIDE = 4;
+        /** More than a text of 700 bytes can have; each part has at least three of them. */
+        private static final int MOST_PARTS = 256;
 
         private final Store store;
         private Tree tree;
@@ -4122,6 +4217,9 @@ public final class Snapshothall {
         private boolean hasLeft;
         private final int[] source = new int[MOST_SOURCES];
         private final int[] access = new int[MOST_SOURCES];
+        // The equalities and bounds of the block: whose they are, and which sources they need.
+        private final int[] part = new int[MOST_PARTS * PART_WIDE];
+        private int parts;
         private long cost;
         private long size;
         private byte[] output = new byte[64];
@@ -4156,6 +4254,13 @@ public final class Snapshothall {
                 source[sources] = s;
                 hasLeft |= tree.op(s) == 2;
                 sources++;
+            }
+            parts = 0;
+            gather(tree.c(block));
+            for (int i = 0; i < sources; i++) {
+                if (tree.op(source[i]) == 1) {
+                    gather(tree.b(source[i]));
+                }
             }
             int best = 0;
             long least = costOf(0);
@@ -4238,39 +4343,51 @@ public final class Snapshothall {
 
         /** Whether a column of a source has an equality, or a bound, among the parts of the block. */
         private boolean hasPart(int s, int column, int placed, boolean isBound) {
-            boolean found = hasPartOf(tree.c(block), s, column, placed, isBound);
-            for (int i = 0; i < sources && !found; i++) {
-                found = tree.op(source[i]) == 1 && hasPartOf(tree.b(source[i]), s, column, placed, isBound);
-            }
-            return found;
-        }
-
-        private boolean hasPartOf(int test, int s, int column, int placed, boolean isBound) {
-            for (int p = tree.firstPart(test); p != 0; p = tree.nextPart(test, p)) {
-                int sign = tree.c(p);
-                boolean isFit = tree.kind(p) == Tree.COMPARE && sign != Parser.UNLIKE && sign == '=' != isBound;
-                int around = isBound ? 0 : placed;
-                if (isFit && isRef(tree.a(p), s, column) && isKnown(tree.e(p), p, around)
-                        || isFit && isRef(tree.b(p), s, column) && isKnown(tree.d(p), tree.e(p), around)) {
+            for (int i = 0; i < parts; i++) {
+                int at = i * PART_WIDE;
+                if (part[at + SOURCE] == s && part[at + COLUMN] == column && part[at + BOUND] == 1 == isBound
+                        && (part[at + NEEDED] & ~placed) == 0) {
                     return true;
                 }
             }
             return false;
         }
 
-        private boolean isRef(int n, int s, int column) {
-            return tree.kind(n) == Tree.REF && tree.b(n) == depth && tree.c(n) == s && tree.d(n) == column;
-        }
-
-        /** Whether the nodes of a sum have no query, and refs of placed sources or of blocks around alone. */
-        private boolean isKnown(int first, int last, int placed) {
-            for (int n = first; n < last; n++) {
-                boolean isOwn = tree.kind(n) == Tree.REF && tree.b(n) == depth;
-                if (tree.kind(n) == Tree.QUERY || isOwn && (placed >> tree.c(n) & 1) == 0) {
-                    return false;
+        /** Gathers the equalities and bounds among the parts of a test. */
+        private void gather(int test) {
+            for (int p = tree.firstPart(test); p != 0; p = tree.nextPart(test, p)) {
+                if (tree.kind(p) == Tree.COMPARE && tree.c(p) != Parser.UNLIKE) {
+                    addPart(tree.a(p), tree.c(p), neededBy(tree.e(p), p));
+                    addPart(tree.b(p), tree.c(p), neededBy(tree.d(p), tree.e(p)));
                 }
             }
-            return true;
+        }
+
+        /** Adds a part if this side of it is a ref of the block alone, and the other side can be known. */
+        private void addPart(int side, int sign, int needed) {
+            boolean isBound = sign != '=';
+            if (tree.kind(side) != Tree.REF || tree.b(side) != depth || needed == NONE || isBound && needed != 0
+                    || parts >= MOST_PARTS) {
+                return;
+            }
+            int at = parts * PART_WIDE;
+            part[at + SOURCE] = tree.c(side);
+            part[at + COLUMN] = tree.d(side);
+            part[at + BOUND] = isBound ? 1 : 0;
+            part[at + NEEDED] = needed;
+            parts++;
+        }
+
+        /** The sources of the block that a sum tells, as bits; NONE if it has a query. */
+        private int neededBy(int first, int last) {
+            int needed = 0;
+            for (int n = first; n < last; n++) {
+                if (tree.kind(n) == Tree.QUERY) {
+                    return NONE;
+                }
+                needed |= tree.kind(n) == Tree.REF && tree.b(n) == depth ? 1 << tree.c(n) : 0;
+            }
+            return needed;
         }
 
         // the output
@@ -4400,60 +4517,53 @@ public final class Snapshothall {
 
         /** Gives the marks of the sources of all blocks of a statement, and of the table it changes. */
         void markSources(Tree tree, int statement, int itsTransaction) {
-            if (!ledger.isSerial(itsTransaction)) {
+            transaction = itsTransaction;
+            if (!ledger.isSerial(transaction)) {
                 return;
             }
-            transaction = itsTransaction;
             asker.use(tree);
-            int kind = tree.kind(statement);
-            if (table != null && kind != Tree.INSERT) {
+            if (table != null && tree.kind(statement) != Tree.INSERT) {
                 asker.range(tree.b(statement), 0, 0, table.key, probe);
-                ledger.mark(transaction, Ledger.RANGE, table.number, table.key, probe, 0);
+                ledger.trace(transaction, Ledger.RANGE, table.number, table.key, probe, 0);
             }
             for (int n = statement; n < tree.e(statement); n++) {
-                if (tree.kind(n) == Tree.BLOCK) {
-                    markBlock(tree, n);
+                int k = 0;
+                for (int s = tree.kind(n) == Tree.BLOCK ? tree.b(n) : 0; s != 0; s = tree.after(s)) {
+                    Table one = store.at(tree.c(s) - 1);
+                    if (one != null && one.isView) {
+                        asker.range(0, 0, 0, 0, probe);
+                        markView(one, 0);
+                    } else if (one != null) {
+                        int where = tree.op(s) == 2 ? 0 : tree.c(n);
+                        asker.range(where, tree.op(n + 1), k, one.key, probe);
+                        ledger.trace(transaction, Ledger.RANGE, one.number, one.key, probe, 0);
+                    }
+                    k++;
                 }
             }
         }
 
-        private void markBlock(Tree tree, int block) {
-            int k = 0;
-            for (int s = tree.b(block); s != 0; s = tree.after(s)) {
-                Table one = store.at(tree.c(s) - 1);
-                if (one != null && one.isView) {
-                    markView(one, 0);
-                } else if (one != null) {
-                    int where = tree.op(s) == 2 ? 0 : tree.c(block);
-                    asker.range(where, tree.op(block + 1), k, one.key, probe);
-                    ledger.mark(transaction, Ledger.RANGE, one.number, one.key, probe, 0);
-                }
-                k++;
-            }
-        }
-
-        /** Marks all keys of the tables that a view uses; views use earlier ones alone. */
+        /** Marks all keys, which the probe tells, of the tables that a view uses; views use earlier ones alone. */
         private void markView(Table view, int depth) {
             for (int n = view.tree.begin(); n < view.tree.end() && depth < Store.MOST_VIEWS; n++) {
                 Table one = view.tree.kind(n) == Tree.SOURCE ? store.at(view.tree.c(n) - 1) : null;
                 if (one != null && one.isView) {
                     markView(one, depth + 1);
                 } else if (one != null) {
-                    asker.range(0, 0, 0, one.key, probe);
-                    ledger.mark(transaction, Ledger.RANGE, one.number, one.key, probe, 0);
+                    ledger.trace(transaction, Ledger.RANGE, one.number, one.key, probe, 0);
                 }
             }
         }
 
         // changes
 
-        /** Ends and makes the versions as planned; answers 0, RULE or CONFLICT. */
-        int change(int itsTransaction, int statement) {
+        /** Ends and makes the versions as planned; whether none of those to be ended has an ender already. */
+        boolean change(int itsTransaction, int statement) {
             transaction = itsTransaction;
             snapshot = ledger.snapshot(transaction);
             for (int i = 0; i < chosens; i++) {
                 if (table.ender(chosen[i]) != NONE) {
-                    return CONFLICT;
+                    return false;
                 }
             }
             firstMade = table.count();
@@ -4463,9 +4573,21 @@ public final class Snapshothall {
             for (int i = 0; i < fresh.count(); i++) {
                 table.make(fresh, i, transaction, statement);
             }
+            return true;
+        }
+
+        /** Looks at the rules of what was made and ended; answers 0, RULE or CONFLICT. */
+        int lookAtRules() {
             int found = 0;
             for (int p = firstMade; p < table.count() && found == 0; p++) {
-                found = lookAtMade(p);
+                if (hasForbiddenNull(table, p)) {
+                    broken = 10 * table.number + NOT_NULL;
+                    return RULE;
+                }
+                for (int r = 0; r < table.rules && found == 0; r++) {
+                    found = lookAtRule(table, p, r);
+                    broken = 10 * table.number + r;
+                }
             }
             for (int i = 0; i < chosens && found == 0; i++) {
                 found = lookAtEnded(chosen[i]);
@@ -4486,38 +4608,29 @@ public final class Snapshothall {
 
         /** Tells the ledger what was written. */
         void tellWrites() {
+            int columns = (1 << table.columns) - 1;
             for (int i = 0; i < chosens && firstMade != NONE; i++) {
-                ledger.write(transaction, table.number, table.versions, chosen[i]);
+                ledger.trace(transaction, Ledger.WRITE, table.number, columns, table.versions, chosen[i]);
             }
             for (int p = firstMade; p != NONE && p < table.count(); p++) {
-                ledger.write(transaction, table.number, table.versions, p);
+                ledger.trace(transaction, Ledger.WRITE, table.number, columns, table.versions, p);
             }
         }
 
         /** Puts the versions that were made into the indexes. */
         void keep() {
             for (int p = firstMade; p != NONE && p < table.count(); p++) {
-                store.enter(table, p);
+                for (int i = 0; i < Store.MOST_INDEXES_MADE; i++) {
+                    Index one = store.indexAt(i);
+                    if (one != null && one.table == table.number) {
+                        one.enter(table.versions, p);
+                    }
+                }
             }
             firstMade = NONE;
         }
 
         // rules
-
-        private int lookAtMade(int place) {
-            if (hasForbiddenNull(table, place)) {
-                broken = 10 * table.number + NOT_NULL;
-                return RULE;
-            }
-            for (int r = 0; r < table.rules; r++) {
-                int found = lookAtRule(table, place, r);
-                if (found != 0) {
-                    broken = found == RULE ? 10 * table.number + r : NONE;
-                    return found;
-                }
-            }
-            return 0;
-        }
 
         private static boolean hasForbiddenNull(Table of, int place) {
             for (int c = 0; c < of.columns; c++) {
@@ -4545,7 +4658,7 @@ public final class Snapshothall {
         /** Primary and unique: looks for another version with like values. */
         private int lookForLike(Table of, int place, int rule) {
             int bits = of.ruleColumns(rule);
-            ledger.mark(transaction, Ledger.VALUES, of.number, bits, of.versions, place);
+            ledger.trace(transaction, Ledger.VALUES, of.number, bits, of.versions, place);
             int found = 0;
             for (int p = 0; p < of.count(); p++) {
                 if (p == place || !of.isAlikeIn(bits, place, p)) {
@@ -4554,7 +4667,7 @@ public final class Snapshothall {
                 if (ledger.sees(of, p, transaction, snapshot)) {
                     return RULE;
                 }
-                found = ledger.canStand(of, p, transaction, snapshot) ? CONFLICT : found;
+                found = ledger.canStand(of, p, transaction) ? CONFLICT : found;
             }
             return found;
         }
@@ -4566,19 +4679,15 @@ public final class Snapshothall {
                 return 0;
             }
             long value = of.versions.at(place, of.ruleColumn(rule));
-            markValue(other, other.key, value);
+            probe.start(MOST_COLUMNS);
+            probe.put(probe.add(), other.key, value, false);
+            ledger.trace(transaction, Ledger.VALUES, other.number, 1 << other.key, probe, 0);
             for (int p = 0; p < other.count(); p++) {
                 if (other.holds(p, other.key, value) && ledger.sees(other, p, transaction, snapshot)) {
                     return other.ender(p) == NONE ? 0 : CONFLICT;
                 }
             }
             return RULE;
-        }
-
-        private void markValue(Table of, int column, long value) {
-            probe.start(MOST_COLUMNS);
-            probe.put(probe.add(), column, value, false);
-            ledger.mark(transaction, Ledger.VALUES, of.number, 1 << column, probe, 0);
         }
 
         /** Looks whether rows refer to the key of a version that was ended, if no row has it now. */
@@ -4594,7 +4703,7 @@ public final class Snapshothall {
                 for (int r = 0; one != null && r < one.rules; r++) {
                     int found = one.refersTo(r, table.number) ? lookForRefs(one, r, value) : 0;
                     if (found != 0) {
-                        broken = found == RULE ? 10 * one.number + r : NONE;
+                        broken = 10 * one.number + r;
                         return found;
                     }
                 }
@@ -4604,7 +4713,9 @@ public final class Snapshothall {
 
         private int lookForRefs(Table one, int rule, long value) {
             int column = one.ruleColumn(rule);
-            markValue(one, column, value);
+            probe.start(MOST_COLUMNS);
+            probe.put(probe.add(), column, value, false);
+            ledger.trace(transaction, Ledger.VALUES, one.number, 1 << column, probe, 0);
             int found = 0;
             for (int p = 0; p < one.count(); p++) {
                 if (!one.holds(p, column, value)) {
@@ -4613,7 +4724,7 @@ public final class Snapshothall {
                 if (ledger.sees(one, p, transaction, snapshot)) {
                     return RULE;
                 }
-                found = ledger.canStand(one, p, transaction, snapshot) ? CONFLICT : found;
+                found = ledger.canStand(one, p, transaction) ? CONFLICT : found;
             }
             return found;
         }
@@ -4813,7 +4924,53 @@ public final class Snapshothall {
         /** Does a statement of a tree. */
         void perform(Tree tree, int n) {
             Session own = session[tree.op(n) & SESSIONS - 1];
-            int kind = tree.kind(n);
+            start(tree, n, own);
+            if (refusal == 0) {
+                int wrong = checker.check(tree, n);
+                refusal = wrong != NONE ? NAMES : isOutOfState(tree, n, own) ? STATE
+                        : hasRoom(tree.kind(n), own) ? 0 : FULL;
+                place = wrong != NONE ? wrong : place;
+            }
+            switch (refusal == 0 ? tree.kind(n) : 0) {
+                case 0:
+                    break;
+                case Tree.INSERT:
+                case Tree.UPDATE:
+                case Tree.DELETE:
+                    change(tree, n, own);
+                    break;
+                case Tree.SELECT:
+                case Tree.OPEN_CURSOR:
+                    query(tree, n, own);
+                    break;
+                case Tree.CREATE_TABLE:
+                case Tree.CREATE_INDEX:
+                case Tree.CREATE_VIEW:
+                case Tree.DROP_TABLE:
+                case Tree.DROP_INDEX:
+                case Tree.DROP_VIEW:
+                    define(tree, n);
+                    break;
+                case Tree.EXPLAIN:
+                    number = planner.explain(tree, n);
+                    break;
+                case Tree.VACUUM:
+                    number = store.vacuum();
+                    break;
+                case Tree.ANALYZE:
+                    number = store.measure();
+                    break;
+                default:
+                    control(tree, n, own);
+            }
+            ledger.sweep();
+            if (refusal != 0) {
+                number = 0;
+                answer = null;
+            }
+        }
+
+        private void start(Tree tree, int n, Session own) {
             statement++;
             changer.start();
             number = 0;
@@ -4821,26 +4978,9 @@ public final class Snapshothall {
             answer = null;
             answerFrom = 0;
             place = tree.place(n);
-            transaction = kind < Tree.EXPLAIN ? own.transaction : NONE;
+            // Those from explain on are no statements of a transaction.
+            transaction = tree.kind(n) < Tree.EXPLAIN ? own.transaction : NONE;
             refusal = isFallen ? POWER : 0;
-            if (refusal != 0) {
-                return;
-            }
-            int wrong = checker.check(tree, n);
-            if (wrong != NONE) {
-                refusal = NAMES;
-                place = wrong;
-            } else if (isOutOfState(tree, n, own)) {
-                refusal = STATE;
-            } else if (!hasRoom(kind, own)) {
-                refusal = FULL;
-            } else {
-                act(tree, n, own);
-            }
-            if (refusal != 0) {
-                number = 0;
-                answer = null;
-            }
         }
 
         private boolean isOutOfState(Tree tree, int n, Session own) {
@@ -4888,47 +5028,14 @@ public final class Snapshothall {
             return hasRoom && (!begins || ledger.count() < Ledger.MOST);
         }
 
-        private void act(Tree tree, int n, Session own) {
-            switch (tree.kind(n)) {
-                case Tree.INSERT:
-                case Tree.UPDATE:
-                case Tree.DELETE:
-                    change(tree, n, own);
-                    break;
-                case Tree.SELECT:
-                case Tree.OPEN_CURSOR:
-                    query(tree, n, own);
-                    break;
-                case Tree.BEGIN:
-                    own.transaction = ledger.begin(tree.a(n) == 0);
-                    transaction = own.transaction;
-                    break;
-                case Tree.COMMIT:
-                case Tree.ROLLBACK:
-                case Tree.ROLLBACK_TO:
-                case Tree.SAVE:
-                case Tree.FETCH:
-                case Tree.CLOSE:
-                    control(tree, n, own);
-                    break;
-                case Tree.EXPLAIN:
-                    number = planner.explain(tree, n);
-                    break;
-                case Tree.VACUUM:
-                    number = store.vacuum();
-                    break;
-                case Tree.ANALYZE:
-                    number = store.measure();
-                    break;
-                default:
-                    define(tree, n);
-            }
-        }
-
         private void control(Tree tree, int n, Session own) {
             long name = tree.value(n);
             int one = own.transaction;
             switch (tree.kind(n)) {
+                case Tree.BEGIN:
+                    own.transaction = ledger.begin(tree.a(n) == 0);
+                    transaction = own.transaction;
+                    break;
                 case Tree.COMMIT:
                     if (commit(one, store.record(one))) {
                         own.end();
@@ -4969,7 +5076,7 @@ public final class Snapshothall {
                     store.addTable(tree, n);
                     break;
                 case Tree.CREATE_INDEX:
-                    store.addIndex(name, store.findTable(tree.value(tree.a(n))), 0, tree, tree.b(n));
+                    store.addIndex(name, store.findTable(tree.value(tree.a(n))), tree, tree.b(n));
                     break;
                 case Tree.CREATE_VIEW:
                     Table view = store.addView(name, tree, n);
@@ -5117,7 +5224,7 @@ public final class Snapshothall {
             boolean isOwn = one == NONE;
             transaction = isOwn ? ledger.begin(true) : one;
             changer.markSources(tree, n, transaction);
-            int found = changer.change(transaction, statement);
+            int found = changer.change(transaction, statement) ? changer.lookAtRules() : CONFLICT;
             if (found == 0) {
                 number = changed;
                 changer.tellWrites();
@@ -5127,6 +5234,7 @@ public final class Snapshothall {
 
         /** Ends a statement that found a refusal, or none, and with it a transaction of its own. */
         private void settle(Session own, boolean isOwn, int found) {
+            ledger.findEdges();
             refusal = ledger.isSerial(transaction) && ledger.hasPivot() ? CONFLICT : found;
             if (refusal == 0) {
                 changer.keep();
@@ -5166,7 +5274,8 @@ public final class Snapshothall {
         private void endAll() {
             for (int i = 0; i < SESSIONS; i++) {
                 if (ledger.isOpen(session[i].transaction)) {
-                    rollBack(session[i].transaction);
+                    store.takeBack(session[i].transaction, NONE);
+                    ledger.rollBack(session[i].transaction);
                 }
                 session[i].end();
             }
@@ -5215,134 +5324,6 @@ public final class Snapshothall {
                 found += one != null && !changer.keepsRules(one) ? 1 : 0;
             }
             return found + (ledger.toldCount() == ledger.toTell() ? 0 : 1);
-        }
-    }
-
-    // ---- what is kept of scripts
-
-    /** The results of the latest script, and the statements of all transactions. */
-    private static final class Journal {
-        private static final int MOST_RESULTS = 40, RESULT_WIDE = 6, RECORD_WIDE = 6;
-        private static final int OWNER = 0, FROM = 1, TO = 2, REFUSAL = 3, NUMBER = 4, COLUMNS = 5;
-
-        private int results;
-        private final int[] told = new int[MOST_RESULTS * RESULT_WIDE];
-        private final Rows[] answer = new Rows[MOST_RESULTS];
-        private int records;
-        private int[] record = new int[0];
-        private long[] hash = new long[0];
-        private byte[] text = new byte[0];
-        private int length;
-
-        void startScript() {
-            results = 0;
-        }
-
-        int results() {
-            return results;
-        }
-
-        boolean has(int i) {
-            return i >= 0 && i < results && i < MOST_RESULTS;
-        }
-
-        int tell(int i, int what) {
-            return has(i) && what >= 0 && what < RESULT_WIDE ? told[i * RESULT_WIDE + what] : NONE;
-        }
-
-        Rows answer(int i) {
-            return has(i) ? answer[i] : null;
-        }
-
-        /** Keeps the outcome of a statement as a result, and the statement if it was one of a transaction. */
-        void keep(Hall hall, Tree tree, int n, byte[] from) {
-            if (results >= MOST_RESULTS) {
-                return;
-            }
-            int at = results * RESULT_WIDE;
-            if (answer[results] == null) {
-                answer[results] = new Rows();
-            }
-            Rows rows = answer[results];
-            rows.start(0);
-            if (hall.answer != null) {
-                rows.take(hall.answer, hall.answerFrom, hall.number);
-            }
-            told[at] = tree.op(n);
-            told[at + 1] = hall.refusal;
-            told[at + 2] = hall.number;
-            told[at + 3] = hall.refusal == 0 ? NONE : hall.place;
-            told[at + 4] = rows.columns();
-            told[at + 5] = hall.broken();
-            results++;
-            if (hall.ledger.isSerial(hall.transaction)) {
-                addRecord(hall, tree.place(n), tree.kept(n) + 1, from);
-            }
-        }
-
-        private void addRecord(Hall hall, int first, int last, byte[] from) {
-            int bytes = Math.min(last, from.length) - first;
-            if (bytes <= 0 || first < 0) {
-                return;
-            }
-            if (length + bytes > text.length) {
-                text = Arrays.copyOf(text, 2 * (length + bytes));
-            }
-            System.arraycopy(from, first, text, length, bytes);
-            if (records >= hash.length) {
-                hash = Arrays.copyOf(hash, 2 * records + 16);
-                record = Arrays.copyOf(record, (2 * records + 16) * RECORD_WIDE);
-            }
-            int at = records * RECORD_WIDE;
-            record[at + OWNER] = hall.transaction;
-            record[at + FROM] = length;
-            record[at + TO] = length + bytes;
-            record[at + REFUSAL] = hall.refusal;
-            record[at + NUMBER] = hall.number;
-            record[at + COLUMNS] = columnsOf(hall);
-            hash[records] = hashOf(hall);
-            records++;
-            length += bytes;
-        }
-
-        private static int columnsOf(Hall hall) {
-            return hall.answer == null ? 0 : hall.answer.columns();
-        }
-
-        private static long hashOf(Hall hall) {
-            return hall.answer == null ? 0 : hall.answer.hash(hall.answerFrom, hall.number);
-        }
-
-        int records() {
-            return records;
-        }
-
-        private int ofRecord(int i, int what) {
-            return i >= 0 && i < records ? record[i * RECORD_WIDE + what] : NONE;
-        }
-
-        int transactionOf(int i) {
-            return ofRecord(i, OWNER);
-        }
-
-        int refusalOf(int i) {
-            return ofRecord(i, REFUSAL);
-        }
-
-        /** Reads the text of a statement anew; whether it is one. */
-        boolean readAnew(int i, Parser parser, Tree tree) {
-            return i >= 0 && i < records
-                    && parser.read(tree, text, ofRecord(i, FROM), ofRecord(i, TO)) == NONE;
-        }
-
-        /** Whether the outcome in another hall is like the one kept, where that was no CONFLICT or POWER. */
-        boolean isLike(int i, Hall hall) {
-            int refusal = refusalOf(i);
-            if (refusal == CONFLICT || refusal == POWER || i < 0 || i >= records) {
-                return true;
-            }
-            return refusal == hall.refusal && ofRecord(i, NUMBER) == hall.number
-                    && ofRecord(i, COLUMNS) == columnsOf(hall) && hash[i] == hashOf(hall);
         }
     }
 }
