@@ -126,7 +126,7 @@ public final class Snapshothall {
         told[at + 4] = rows.columns();
         told[at + 5] = hall.broken();
         resultCount++;
-        if (hall.ledger.isSerial(hall.transaction)) {
+        if (hall.ledger.isSerializable(hall.transaction)) {
             addRecord(script.place(n), script.kept(n) + 1);
         }
     }
@@ -2272,7 +2272,7 @@ public final class Snapshothall {
             }
         }
 
-        boolean isSerial(int one) {
+        boolean isSerializable(int one) {
             return one >= 0 && one < count && one < MOST && info[one * WIDE + SERIAL] == 1;
         }
 
@@ -2294,14 +2294,14 @@ public final class Snapshothall {
         }
 
         /** Begins a transaction; answers its number, NONE if there can be no more. */
-        int begin(boolean isSerializable) {
+        int begin(boolean isSerial) {
             if (count >= MOST) {
                 return NONE;
             }
             int one = count;
             count++;
             put(one, PHASE, OPEN);
-            put(one, SERIAL, isSerializable ? 1 : 0);
+            put(one, SERIAL, isSerial ? 1 : 0);
             put(one, SNAPSHOT, clock);
             put(one, STAMP, NONE);
             put(one, BEGUN, moments);
@@ -2388,7 +2388,7 @@ public final class Snapshothall {
          * a range, otherwise the values of the columns of these bits.
          */
         void trace(int one, int kind, int table, int bits, Rows rows, int row) {
-            if (!isSerial(one)) {
+            if (!isSerializable(one)) {
                 return;
             }
             info[one * WIDE + MARKS] += kind == WRITE ? 0 : 1;
@@ -2566,14 +2566,16 @@ public final class Snapshothall {
         int toTell() {
             int found = 0;
             for (int i = 0; i < count; i++) {
-                found += hasCommitted(i) && isSerial(i) ? 1 : 0;
+                found += hasCommitted(i) && isSerializable(i) ? 1 : 0;
             }
             return found;
         }
 
         private void tellAll() {
             int all = toTell();
-            Arrays.fill(isTold, false);
+            for (int i = 0; i < MOST; i++) {
+                isTold[i] = false;
+            }
             tolds = 0;
             for (int i = 0; i < all; i++) {
                 int next = nextTold();
@@ -2588,7 +2590,7 @@ public final class Snapshothall {
 
         private int nextTold() {
             for (int i = 0; i < count; i++) {
-                if (hasCommitted(i) && isSerial(i) && !isTold[i] && isFree(i)) {
+                if (hasCommitted(i) && isSerializable(i) && !isTold[i] && isFree(i)) {
                     return i;
                 }
             }
@@ -2597,7 +2599,7 @@ public final class Snapshothall {
 
         private boolean isFree(int one) {
             for (int i = 0; i < count; i++) {
-                if (i != one && hasCommitted(i) && isSerial(i) && !isTold[i]
+                if (i != one && hasCommitted(i) && isSerializable(i) && !isTold[i]
                         && (info[i * WIDE + ENDED] < info[one * WIDE + BEGUN] || leads(i, one))) {
                     return false;
                 }
@@ -3700,7 +3702,7 @@ public final class Snapshothall {
         // queries
 
         /** Asks a query; the rows are good until the next one of its depth is asked. */
-        Rows ask(int query) {
+        private Rows ask(int query) {
             int d = Math.max(0, Math.min(MOST_DEPTH - 1, tree.op(query)));
             Rows all = answer[d];
             int first = tree.a(query);
@@ -3877,7 +3879,7 @@ public final class Snapshothall {
             return truth == UNKNOWN || other == UNKNOWN ? UNKNOWN : TRUE;
         }
 
-        int truth(int test) {
+        private int truth(int test) {
             switch (tree.kind(test)) {
                 case Tree.OR:
                     return any(test);
@@ -3982,7 +3984,7 @@ public final class Snapshothall {
         // sums
 
         /** Works out a sum; isBlank tells then whether it is NULL. */
-        long value(int n) {
+        private long value(int n) {
             isBlank = false;
             switch (tree.kind(n)) {
                 case Tree.NUMBER:
@@ -4170,7 +4172,7 @@ public final class Snapshothall {
         // work
 
         /** The work of a query, as far as it goes up to a million. */
-        long work(int query) {
+        private long work(int query) {
             long work = 0;
             for (int b = tree.a(query); b != 0; b = tree.after(b)) {
                 long rows = 1;
@@ -4186,7 +4188,7 @@ public final class Snapshothall {
         }
 
         /** The work of the queries of a depth among the nodes from first up to last. */
-        long workWithin(int first, int last, int depth) {
+        private long workWithin(int first, int last, int depth) {
             long work = 0;
             for (int n = first; n < last; n++) {
                 if (tree.kind(n) == Tree.QUERY && tree.op(n) == depth) {
@@ -4518,7 +4520,7 @@ public final class Snapshothall {
         /** Gives the marks of the sources of all blocks of a statement, and of the table it changes. */
         void markSources(Tree tree, int statement, int itsTransaction) {
             transaction = itsTransaction;
-            if (!ledger.isSerial(transaction)) {
+            if (!ledger.isSerializable(transaction)) {
                 return;
             }
             asker.use(tree);
@@ -4847,6 +4849,9 @@ public final class Snapshothall {
 
         /** Passes over so many rows of a cursor, or what is left; answers the first one of them. */
         int pass(int one, int howMany) {
+            if (rowsOf(one) == null) {
+                return 0;
+            }
             int from = passed[one];
             passed[one] = Math.min(cursor[one].count(), from + howMany);
             return from;
@@ -5101,18 +5106,10 @@ public final class Snapshothall {
             int views = see(tree, n, tree.e(n), one, snapshot);
             boolean isSmall = true;
             // The latest views first, as a view uses earlier ones alone; then the earliest first.
-            for (int view = latestView(views, Integer.MAX_VALUE); view != NONE;
-                    view = latestView(views, store.at(view).madeAt)) {
-                Table of = store.at(view);
+            for (Table of = latestView(views, Integer.MAX_VALUE); of != null; of = latestView(views, of.madeAt)) {
                 views |= see(of.tree, of.tree.begin(), of.tree.end(), one, snapshot);
             }
-            int made = 0;
-            for (int i = 0; i < Store.MOST_VIEWS; i++) {
-                Table of = store.at(earliestView(views, made));
-                if (of == null) {
-                    break;
-                }
-                made = of.madeAt;
+            for (Table of = earliestView(views, 0); of != null; of = earliestView(views, of.madeAt)) {
                 asker.use(of.tree);
                 of.work = asker.work(of.query);
                 if (of.work > MOST_WORK) {
@@ -5142,29 +5139,25 @@ public final class Snapshothall {
             return views;
         }
 
-        /** The latest one of some views that was made ahead of a statement; NONE without one. */
-        private int latestView(int views, int before) {
-            int found = NONE;
-            int latest = 0;
+        /** The latest one of some views that was made ahead of a statement, or null. */
+        private Table latestView(int views, int before) {
+            Table found = null;
             for (int i = 0; i < 32; i++) {
                 Table one = (views >>> i & 1) != 0 ? store.at(i) : null;
-                if (one != null && one.madeAt < before && one.madeAt > latest) {
-                    found = i;
-                    latest = one.madeAt;
+                if (one != null && one.madeAt < before && (found == null || one.madeAt > found.madeAt)) {
+                    found = one;
                 }
             }
             return found;
         }
 
-        /** The earliest one of some views that was made behind a statement; NONE without one. */
-        private int earliestView(int views, int behind) {
-            int found = NONE;
-            int earliest = Integer.MAX_VALUE;
+        /** The earliest one of some views that was made behind a statement, or null. */
+        private Table earliestView(int views, int behind) {
+            Table found = null;
             for (int i = 0; i < 32; i++) {
                 Table one = (views >>> i & 1) != 0 ? store.at(i) : null;
-                if (one != null && one.madeAt > behind && one.madeAt < earliest) {
-                    found = i;
-                    earliest = one.madeAt;
+                if (one != null && one.madeAt > behind && (found == null || one.madeAt < found.madeAt)) {
+                    found = one;
                 }
             }
             return found;
@@ -5235,7 +5228,7 @@ public final class Snapshothall {
         /** Ends a statement that found a refusal, or none, and with it a transaction of its own. */
         private void settle(Session own, boolean isOwn, int found) {
             ledger.findEdges();
-            refusal = ledger.isSerial(transaction) && ledger.hasPivot() ? CONFLICT : found;
+            refusal = ledger.isSerializable(transaction) && ledger.hasPivot() ? CONFLICT : found;
             if (refusal == 0) {
                 changer.keep();
             } else {
