@@ -19,6 +19,8 @@ public final class Snapshothall {
     private static final int OWNER = 0, FROM = 1, TO = 2, REFUSAL = 3, NUMBER = 4, COLUMNS = 5, RECORD_WIDE = 6;
 
     private static final int INT = 1, WORD = 2;
+    private static final long LEAST = 0x8000000000000000L, GREATEST = 0x7FFFFFFFFFFFFFFFL;
+    private static final int LATEST = 0x7FFFFFFF;
     private static final int MOST_COLUMNS = 6;
     private static final int MOST_DEPTH = 10;
     private static final int MOST_SOURCES = 3;
@@ -1892,7 +1894,12 @@ public final class Snapshothall {
         /** The first column of a rule. */
         int ruleColumn(int one) {
             int bits = ruleColumns(one);
-            return bits == 0 ? NONE : Integer.numberOfTrailingZeros(bits);
+            for (int c = 0; c < MOST_COLUMNS; c++) {
+                if ((bits >> c & 1) != 0) {
+                    return c;
+                }
+            }
+            return NONE;
         }
 
         boolean refersTo(int one, int other) {
@@ -2590,7 +2597,7 @@ public final class Snapshothall {
 
         private int nextTold() {
             for (int i = 0; i < count; i++) {
-                if (hasCommitted(i) && isSerializable(i) && !isTold[i] && isFree(i)) {
+                if (!isTold[i] && hasCommitted(i) && isSerializable(i) && isFree(i)) {
                     return i;
                 }
             }
@@ -2599,7 +2606,7 @@ public final class Snapshothall {
 
         private boolean isFree(int one) {
             for (int i = 0; i < count; i++) {
-                if (i != one && hasCommitted(i) && isSerializable(i) && !isTold[i]
+                if (i != one && !isTold[i] && hasCommitted(i) && isSerializable(i)
                         && (info[i * WIDE + ENDED] < info[one * WIDE + BEGUN] || leads(i, one))) {
                     return false;
                 }
@@ -4109,8 +4116,8 @@ public final class Snapshothall {
         void range(int test, int depth, int itsSource, int column, Rows into) {
             into.start(MOST_COLUMNS);
             into.add();
-            into.put(0, 0, Long.MIN_VALUE, false);
-            into.put(0, 1, Long.MAX_VALUE, false);
+            into.put(0, 0, LEAST, false);
+            into.put(0, 1, GREATEST, false);
             for (int p = tree.firstPart(test); p != 0; p = tree.nextPart(test, p)) {
                 if (tree.kind(p) != Tree.COMPARE || tree.c(p) == Parser.UNLIKE) {
                     continue;
@@ -4155,7 +4162,7 @@ public final class Snapshothall {
         }
 
         private static void narrow(Rows range, int sign, long one, boolean isNull) {
-            boolean isEmpty = isNull || sign == '<' && one == Long.MIN_VALUE || sign == '>' && one == Long.MAX_VALUE;
+            boolean isEmpty = isNull || sign == '<' && one == LEAST || sign == '>' && one == GREATEST;
             long low = range.at(0, 0);
             long high = range.at(0, 1);
             if (sign == '=' || sign == Parser.AT_LEAST || sign == '>') {
@@ -4165,8 +4172,8 @@ public final class Snapshothall {
                 high = Math.min(high, sign == '<' ? one - 1 : one);
             }
             // A first key behind the last one stays so, whatever else narrows the range.
-            range.put(0, 0, isEmpty ? Long.MAX_VALUE : low, false);
-            range.put(0, 1, isEmpty ? Long.MIN_VALUE : high, false);
+            range.put(0, 0, isEmpty ? GREATEST : low, false);
+            range.put(0, 1, isEmpty ? LEAST : high, false);
         }
 
         // work
@@ -5106,7 +5113,7 @@ public final class Snapshothall {
             int views = see(tree, n, tree.e(n), one, snapshot);
             boolean isSmall = true;
             // The latest views first, as a view uses earlier ones alone; then the earliest first.
-            for (Table of = latestView(views, Integer.MAX_VALUE); of != null; of = latestView(views, of.madeAt)) {
+            for (Table of = latestView(views, LATEST); of != null; of = latestView(views, of.madeAt)) {
                 views |= see(of.tree, of.tree.begin(), of.tree.end(), one, snapshot);
             }
             for (Table of = earliestView(views, 0); of != null; of = earliestView(views, of.madeAt)) {
