@@ -3504,8 +3504,8 @@ public final class Snapshothall {
                     int type = sum(tree.a(test), depth);
                     int query = tree.b(test);
                     inner(query, depth);
-                    wrongIf(tree.value(tree.a(query)) > 1 || !fits(typeOf(tree, query, 0), type),
-                            tree.place(query));
+                    long items = tree.value(tree.a(query));
+                    wrongIf(items > 1 || items == 1 && !fits(typeOf(tree, query, 0), type), tree.place(query));
                     break;
                 default:
                     break;
@@ -3615,6 +3615,7 @@ public final class Snapshothall {
                 }
             }
             wrong(tree.place(n));
+            tree.put(n, Tree.B, NONE);
             tree.put(n, Tree.TYPE, ANY);
             return ANY;
         }

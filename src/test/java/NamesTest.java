@@ -152,6 +152,8 @@ public final class NamesTest {
         names("select ^b.k from t as a,t as b group by a.k;");
         names("select 1 from t,u group by ^k;");
         names("select 1 from t group by ^x;");
+        names("select ^k from t group by x;");
+        names("select ^t.k,w from t group by w,x.k;");
         names("select w,w from t group by w,w;");
         names("select case when exists(select*from u where u.k=^t.w)then 1 else 2 end from t group by w;");
         names("select case when exists(select*from u where u.t=^t.k)then 1 else 2 end from t group by w;");
