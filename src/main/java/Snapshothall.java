@@ -455,7 +455,20 @@ public final class Snapshothall {
 
     // ---- texts as trees
 
-    /** The parts of a text as nodes of ten small numbers and a long each; node 0 is none. */
+    /**
+     * The parts of a text as nodes of ten small numbers and a long each; node 0 is none. NEXT is the next
+     * node of a list, OP the sign ahead of a part of a sum or term, else:
+     * <ul>
+     * <li>statements: value and D name and its place, A B parts, C table, OP session, E end of nodes, TYPE of text;
+     * <li>QUERY: A blocks, B keys, C limit, D offset, E end of nodes, OP depth;
+     * <li>BLOCK: A items, B sources, C where, D group by, E end of nodes, OP union or except, value items;
+     * <li>HEAD, the node behind a BLOCK: A having, B place of a star, C of from, D distinct, E aggregates, OP depth;
+     * <li>SOURCE: A name behind as, B on, C number and 1, OP join or left join; ITEM: A sum, B name behind as;
+     * <li>REF: A name ahead of the dot, B C D depth, source and column that it tells, TYPE their type;
+     * <li>tests and sums: A B C their parts, C also the sign, or 1 for a not ahead of in and behind is;
+     * <li>COMPARE: D and E, where the nodes of its sides begin; BETWEEN: D 1 for a not; aggregates: B distinct, E depth.
+     * </ul>
+     */
     private static final class Tree {
         static final int NUMBER = 1, LETTERS = 2, EMPTY = 3, REF = 4, MINUS = 5, PAREN = 6, CASE = 7;
         static final int COALESCE = 8, COUNT_ALL = 9, COUNT = 10, SUM = 11, MIN = 12, MAX = 13;
@@ -605,7 +618,6 @@ public final class Snapshothall {
         int nextPart(int test, int part) {
             return kind(test) == AND ? after(part) : 0;
         }
-
     }
 
     /** Reads texts by the grammar of section 2 into trees, and finds their faults. */
