@@ -815,6 +815,11 @@ public final class Snapshothall {
             }
         }
 
+        /** Whether the token behind this one is a name. */
+        private boolean isNameBehind() {
+            return next >= 0 && next < MANY && kinds[next] == NAME;
+        }
+
         private boolean take(int wanted) {
             if (token != wanted) {
                 return false;
@@ -1015,7 +1020,12 @@ public final class Snapshothall {
             int columns = 1;
             int rules = 0;
             tree.put(n, Tree.A, last);
-            for (int i = 0; i < MOST_COLUMNS + MOST_RULES && rules < MOST_RULES && take(','); i++) {
+            for (int i = 0; i < MOST_COLUMNS + MOST_RULES && rules < MOST_RULES; i++) {
+                // The comma of one column too many cannot stand, though that of a first rule could.
+                boolean isTooMany = rules == 0 && columns >= MOST_COLUMNS && isNameBehind();
+                if (isTooMany || !take(',')) {
+                    break;
+                }
                 if (token >= PRIMARY && token <= REFER) {
                     int one = rule();
                     if (rules == 0) {

@@ -127,7 +127,7 @@ public final class TextTest {
         Calls.fault(many("begin;", "", 40) + "^commit;");
         Calls.fault(many("begin;", "", 40) + " ^0:commit;");
         Calls.fault("create table t(" + many("a int", ",", 6) + "," + many("primary(a)", ",", 6) + ");");
-        Calls.fault("create table t(" + many("a int", ",", 6) + ",^a int);");
+        Calls.fault("create table t(" + many("a int", ",", 6) + "^,a int);");
         Calls.fault("create table t(a int," + many("primary(a)", ",", 6) + "^,unique(a));");
         Calls.fault("select " + many("a", ",", 10) + " from t;");
         Calls.fault("select " + many("a", ",", 10) + "^,a from t;");
