@@ -21,6 +21,7 @@ public final class CallEdgeTest {
         isSerialWithAWorkOfAtMostFourHundred();
         isSerialIfItCannotBe();
         isSerialOfWhatIsUnlike();
+        isSerialWithoutExplain();
         isSerialOfRefusals();
         isSerialChangesNothing();
         errorsAreNone();
@@ -310,6 +311,17 @@ public final class CallEdgeTest {
             Calls.run(hall, one[0]);
             Calls.due("isSerial behind " + one[0], hall.isSerial(), one[1].equals("true"));
         }
+        // Rows at last: like keys with another value, other rows as many, and none.
+        String[] changes = {"update t set a=11 where k=1;", "update t set k=3 where k=1;", "delete from t;",
+            "update t set a=null where k=2;"};
+        for (String change : changes) {
+            Snapshothall unlike = hall();
+            Calls.done(unlike, "begin snapshot;" + change + "commit;");
+            Calls.due("isSerial behind " + change, unlike.isSerial(), false);
+        }
+        Snapshothall alike = hall();
+        Calls.done(alike, "begin snapshot;update t set a=a,k=k;commit;");
+        Calls.due("isSerial behind an update to the same", alike.isSerial(), true);
         Snapshothall hall = hall();
         Calls.run(hall, snapshot + "insert into t values(3,30);begin snapshot;delete from t where k=3;commit;");
         Calls.due("isSerial by a refusal of its own, rolled back", hall.isSerial(), true);
@@ -323,6 +335,14 @@ public final class CallEdgeTest {
         Calls.play(hall, "begin;insert into t values(2,10);commit;begin snapshot;delete from t where k=2;commit;", "0", "R0", "0",
                 "0", "1", "0");
         Calls.due("isSerial by another RULE", hall.isSerial(), true);
+    }
+
+    /** What explain tells, which is no statement of a transaction, is not compared. */
+    private static void isSerialWithoutExplain() {
+        Snapshothall hall = hall();
+        Calls.done(hall, "begin;insert into t values(3,1),(4,1),(5,1),(6,1),(7,1),(8,1),(9,1),(10,1);rollback;begin;");
+        Calls.play(hall, "explain select*from t;analyze;vacuum;analyze;commit;", "9", "10", "8", "2", "0");
+        Calls.due("isSerial", hall.isSerial(), true);
     }
 
     // "always true, if all transactions that committed were SERIALIZABLE and nothing was refused as FULL"

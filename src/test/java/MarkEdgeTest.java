@@ -29,6 +29,8 @@ public final class MarkEdgeTest {
         edgesOfOnesRolledBack();
         edgesToWhatWasTakenBack();
         edgesBehindVacuumAndRestart();
+        edgesOfGreatNumbers();
+        likeValuesInOtherColumns();
         noEdgeToItself();
         twoWithEdgesToEachOther();
         oneInTheMiddle();
@@ -359,6 +361,21 @@ public final class MarkEdgeTest {
         }
     }
 
+    /** A statement can get marks with like values in unlike columns, and of unlike tables. */
+    private static void likeValuesInOtherColumns() {
+        String[] writes = {"update t set a=1 where k=9", "update t set a=1 where k=8", "update u set a=1 where k=9"};
+        for (int i = 0; i < writes.length; i++) {
+            Snapshothall hall = new Snapshothall();
+            Calls.done(hall, "create table t(k int,a int,b int,primary(k),unique(a),unique(b));create table u(k int,a int,"
+                    + "primary(k));insert into t values(9,7,5),(8,2,2),(6,3,7);insert into u values(9,7);");
+            // Marks k=7, a=7, which is there already.
+            Calls.play(hall, "0:begin;insert into t values(7,7,7);1:begin;" + writes[i] + ";", "0", "R1", "0", "1");
+            Calls.due("edge to " + writes[i], hall.isEdge(4, 5), i == 0);
+            Calls.play(hall, "2:begin;update t set b=1 where k=6;", "0", "1");
+            Calls.due("no edge by a rule that was not looked at", hall.isEdge(4, 6), false);
+        }
+    }
+
     // "Two transactions are CONCURRENT if each began ahead of the commit of the other one (or the other one did not
     // commit)."
     private static void concurrentIfBegunAheadOfTheCommit() {
@@ -506,6 +523,48 @@ public final class MarkEdgeTest {
         Calls.due("edge behind restart", hall.isEdge(2, 3), true);
         Calls.due("edge behind restart", hall.isEdge(4, 3), true);
         Calls.due("edges to", hall.transaction(3, 7), 2);
+    }
+
+    /** Edges of transactions with great numbers: each of these to each of the others, cleared by a rollback. */
+    private static void edgesOfGreatNumbers() {
+        int[] at = {2, 62, 63, 64, 65, 126, 127, 128, 129, 190, 191, 192, 193, 198};
+        for (int r : at) {
+            for (int w : at) {
+                if (r != w) {
+                    edgeBetween(r, w);
+                }
+            }
+        }
+    }
+
+    private static void edgeBetween(int r, int w) {
+        Snapshothall hall = hall();
+        String[] begins = {r < w ? "0:begin;" : "1:begin;", r < w ? "1:begin;" : "0:begin;"};
+        goTo(hall, Math.min(r, w));
+        Calls.done(hall, begins[0]);
+        goTo(hall, Math.max(r, w));
+        Calls.done(hall, begins[1] + "0:select*from t where k=5;1:insert into t values(5,5);");
+        String what = "of " + r + " and " + w;
+        Calls.due("transaction " + what, hall.session(0, 0), r);
+        Calls.due("transaction " + what, hall.session(1, 0), w);
+        for (int t = 0; t < hall.transactions(); t += t % 64 >= 61 || t < 3 ? 1 : 2) {
+            Calls.due("edge to " + t + what, hall.isEdge(r, t), t == w);
+            Calls.due("edge from " + t + what, hall.isEdge(t, w), t == r);
+            Calls.due("edges " + t + what, hall.transaction(t, 7) + 2 * hall.transaction(t, 8), t == w ? 1 : t == r ? 2 : 0);
+        }
+        Calls.play(hall, "1:insert into t values(6,10);save p;insert into t values(7,7);0:insert into t values(8,8);", "R1", "0", "1",
+                "1");
+        // The edge back makes two with edges to each other.
+        Calls.play(hall, "1:select*from t where k=8;", "C");
+        Calls.due("edge behind the rollback " + what, hall.isEdge(r, w), false);
+        Calls.due("edges from " + what, hall.transaction(r, 8) + hall.transaction(w, 7), 0);
+        Calls.due("errors " + what, hall.errors(), 0);
+    }
+
+    private static void goTo(Snapshothall hall, int transactions) {
+        while (hall.transactions() < transactions) {
+            Calls.run(hall, Calls.many("2:select k from t where k<0;", "", Math.min(20, transactions - hall.transactions())));
+        }
     }
 
     private static void noEdgeToItself() {

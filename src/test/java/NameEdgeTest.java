@@ -477,6 +477,12 @@ public final class NameEdgeTest {
         names("select 1-^case when 1=1 then 'a' else 'b' end from t;");
         names("select 1-^coalesce(null,'a')from t;");
         names("select 1-^min(w)from t;");
+        names("select 1 from t having sum(k)=^'a';");
+        names("select 1 from t having 'a'=^sum(k);");
+        names("select 1 from t having sum(k)=1 and sum(null)=1 and count(w)=1 and max(w)='a'and min(null)='a';");
+        names("select 1 from t having count(null)=^'a';");
+        names("insert into t select 5,^sum(k)from t;");
+        names("insert into t select 5,max(w)from t;");
         names("select 1-count(w)from t;");
         names("select sum(k),sum(null)from t;");
         names("select sum(^w)from t;");

@@ -28,6 +28,7 @@ public final class QueryEdgeTest {
         exceptLeavesEachOnce();
         blocksFromTheLeftOn();
         ordersByKeys();
+        ordersByLateItems();
         nullsInOrders();
         likeOnesStayInTheirOrder();
         offsetsAndLimits();
@@ -123,6 +124,12 @@ public final class QueryEdgeTest {
         ask("select a,w,count(*)from t group by a,w", "[-,97,1;-,122,1;10,-,1;10,98,1;20,24930,1]");
         ask("select count(*)from t group by a,a,a", "[2;2;1]");
         Calls.done(hall, "delete from t where k=5;");
+        // Of three refs each counts.
+        Snapshothall other = new Snapshothall();
+        Calls.done(other, "create table t(k int,a int,b int,c int,primary(k));insert into t values(1,1,1,2),(2,1,2,1),(3,1,1,1),"
+                + "(4,1,1,null),(5,1,1,2),(6,0,2,2),(7,1,2,1),(8,1,1,null);");
+        Calls.play(other, "select a,b,c,count(*),min(k)from t group by a,b,c;", "[0,2,2,1,6;1,1,-,2,4;1,1,1,1,3;1,1,2,2,1;1,2,1,2,2]");
+        Calls.play(other, "select c,count(*)from t group by c,b,a;", "[-,2;1,1;1,2;2,2;2,1]");
     }
 
     // "without group by all rows are one, also if there are none"
@@ -265,6 +272,31 @@ public final class QueryEdgeTest {
         ask("select k from e order by 1", "[]");
         ask("select k from o order by 1 down", "[1]");
         ask("select k from t union select k+3 from t order by 1 down", "[7;6;5;4;3;2;1]");
+    }
+
+    /** By items behind the 64th one, as a * can tell. */
+    private static void ordersByLateItems() {
+        Snapshothall wide = new Snapshothall();
+        Calls.done(wide, "create table o(a int,b int,c int,d int,e int,f int,primary(a));insert into o values(1,2,3,4,5,null);"
+                + "create table t(k int,a int,primary(k));insert into t values(1,7),(2,null),(3,5),(4,7);"
+                + "create view one as select*from o,o as x,o as y;create view two as select*from one,one as x,one as y;");
+        String[][] due = {{"order by 74", "2 3 1 4 "}, {"order by 74 down", "1 4 3 2 "}, {"order by 74 down,73 down", "4 1 3 2 "},
+            {"order by 72,74 down limit 2", "1 4 "}, {"order by 64,65,73 down", "4 3 2 1 "}, {"order by 73", "1 2 3 4 "}};
+        for (String[] one : due) {
+            Calls.run(wide, "select*from two,one,t " + one[0] + ";");
+            StringBuilder keys = new StringBuilder();
+            for (int row = 0; row < wide.result(0, 2); row++) {
+                keys.append(wide.cell(0, row, 72)).append(' ');
+                Calls.due("NULL at the end", wide.isNull(0, row, 73), wide.cell(0, row, 72) == 2);
+            }
+            Calls.due("keys " + one[0], keys.toString(), one[1]);
+        }
+        Calls.run(wide, "select distinct*from two,one,t union select*from two,one,t;select*from two,one,t except select*from two,"
+                + "one,t where t.k<>2;select*from two,one,t order by 75;");
+        Calls.due("rows of a union", wide.result(0, 2), 4);
+        Calls.due("rows of an except", wide.result(1, 2), 1);
+        Calls.due("the row that stays", wide.cell(1, 0, 72), 2L);
+        Calls.due("item 75", wide.result(2, 1), Snapshothall.NAMES);
     }
 
     // "NULL ahead of all others (down: behind them)"

@@ -284,6 +284,11 @@ public final class SnapshotEdgeTest {
         Calls.play(hall, "begin;save p;delete from t where k=1;save p;delete from t where k=2;rollback to p;select*from t;",
                 "0", "0", "1", "0", "1", "0", "[2,20]");
         Calls.due("saves", hall.session(0, 1), 1);
+        // The others stay where they stand.
+        Snapshothall other = hall();
+        Calls.play(other, "begin;save a;delete from t where k=1;save b;delete from t where k=2;save a;insert into t values(3,3);"
+                + "save c;insert into t values(4,4);save a;rollback to c;select k from t;rollback to b;select k from t;rollback to a;",
+                "0", "0", "1", "0", "1", "0", "1", "0", "1", "0", "0", "[3]", "0", "[2]", "S");
         Calls.play(hall, "rollback to p;select*from t;save p;save p;", "0", "[2,20]", "0", "0");
         Calls.due("saves", hall.session(0, 1), 1);
     }

@@ -11,6 +11,7 @@ public final class TextEdgeTest {
         atMostSevenHundredBytes();
         anEmptyTextHasNoFault();
         clearing();
+        nothingIsLeftOfAnEarlierText();
         namesHaveOneToEightLetters();
         namesAreNoWordsOfTheGrammar();
         numbersHaveOneToNineDigits();
@@ -22,6 +23,7 @@ public final class TextEdgeTest {
         textsThatEndTooEarly();
         whatOccursAnyNumberOfTimes();
         whatCanBeLeftOut();
+        wordsThatBeginAStatement();
         alternatives();
         atMostFortyStatements();
         atMostSixColumns();
@@ -140,6 +142,30 @@ public final class TextEdgeTest {
         Calls.due("clearText", hall.clearText(), 1);
         Calls.due("clearText again", hall.clearText(), 0);
         Calls.due("fault", hall.fault(), Snapshothall.NONE);
+    }
+
+    /** Bytes of an earlier text, which stood behind the end of this one, are none of it. */
+    private static void nothingIsLeftOfAnEarlierText() {
+        String[][] texts = {{"select 'abcd' from t;", "select 'abcd"}, {"select 'abcd' from t;", "select 'abc"},
+            {"save abcdef;", "save abc"}, {"save abcdef;", "save abcdef"}, {"fetch c 123456;", "fetch c 123"},
+            {"delete from t where a<=1;", "delete from t where a<"}, {"begin;commit;", "begin;"}, {"begin;", "begin"}};
+        for (String[] one : texts) {
+            Snapshothall hall = new Snapshothall();
+            Calls.type(hall, one[0]);
+            hall.fault();
+            hall.clearText();
+            Calls.type(hall, one[1]);
+            Snapshothall fresh = new Snapshothall();
+            Calls.type(fresh, one[1]);
+            int due = one[1].contains("'") ? 7 : one[1].endsWith(";") ? Snapshothall.NONE : one[1].length();
+            Calls.due("fault of " + one[1], fresh.fault(), due);
+            Calls.due("fault of " + one[1] + " behind " + one[0], hall.fault(), due);
+        }
+        Snapshothall hall = new Snapshothall();
+        Calls.done(hall, "create table t(k int,w word,primary(k));begin;save abcdefgh;");
+        Calls.play(hall, "save abcd;rollback to abcd;rollback to abcdefgh;", "0", "0", "0");
+        Calls.play(hall, "insert into t values(12345,'abcdef');insert into t values(123,'abc');select*from t;", "1", "1",
+                "[123," + Calls.word("abc") + ";12345," + Calls.word("abcdef") + "]");
     }
 
     // "A name is 1 to 8 letters a to z"
@@ -388,6 +414,22 @@ public final class TextEdgeTest {
         Calls.fault("select count(distinct ^*)from t;");
         Calls.fault("select count(^)from t;");
         Calls.fault("select max(^*)from t;");
+    }
+
+    private static void wordsThatBeginAStatement() {
+        String begins = " create drop insert update delete select begin commit rollback save open fetch close explain vacuum "
+                + "analyze ";
+        String whole = " begin commit rollback vacuum analyze ";
+        for (String word : WORDS) {
+            if (whole.contains(" " + word + " ")) {
+                Calls.fault(word + ";");
+            } else if (begins.contains(" " + word + " ")) {
+                Calls.fault(word + "^;");
+            } else {
+                Calls.fault("^" + word + ";");
+                Calls.fault("commit;0:^" + word + " a;");
+            }
+        }
     }
 
     // "a bar separates alternatives"
