@@ -367,6 +367,13 @@ public final class CallEdgeTest {
         }
         Calls.due("all behind isSerial", Calls.kept(hall) + Calls.outcome(hall), before);
         Calls.due("the fuse", hall.setFuse(0, false), 7);
+        // However often it is asked.
+        Snapshothall often = hall();
+        Calls.play(often, "create index i on t(a);create view v as select*from t;begin;save p;delete from t;rollback to p;insert into "
+                + "t select k+2,a from v;commit;select*from v;", "0", "0", "0", "0", "2", "0", "2", "0", "[1,10;2,20;3,10;4,20]");
+        for (int i = 0; i < 100; i++) {
+            Calls.due("isSerial, asked " + i, often.isSerial(), true);
+        }
     }
 
     // "always 0"

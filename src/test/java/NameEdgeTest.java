@@ -324,6 +324,8 @@ public final class NameEdgeTest {
         names("select 1 from t join u on ^count(*)=1;");
         names("select 1 from t left join u on u.k=^min(t.k);");
         names("create table a(k int,primary(k),check(^count(*)=1));");
+        Calls.play(new Snapshothall(), "create table a(k int,primary(k),check(^count(*)=1));", "N");
+        Calls.play(new Snapshothall(), "insert into ^t values(count(*));", "N");
         names("create table a(k int,primary(k),check(k=^max(k)));");
         names("insert into t values(^count(*),'a');");
         names("insert into t values(^max(1),'a');");
@@ -574,6 +576,9 @@ public final class NameEdgeTest {
         names("insert into t select * ^from x;");
         names("insert into t select*from t,^x;");
         names("insert into u select ^*from t,x;");
+        names("insert into u select ^*from x,t;");
+        names("insert into u select*from ^x,u;");
+        names("insert into t select*from ^x,t;");
         names("select k from t union ^select*from x;");
         names("select*from t,^x order by 2;");
         names("select*from t,^x order by 3;");
@@ -594,6 +599,14 @@ public final class NameEdgeTest {
         Calls.play(hall, "select case when 1=1 then ^x else 'a' end from a,b;select coalesce('a',^x)from a,b;"
                 + "select coalesce(1,^x)from a,b;select a.x from a,b group by ^x;select ^b.x from a,b group by x;",
                 "N", "N", "N", "N", "N");
+        Calls.play(hall, "select 'q'from a union ^select x from a,b;select 1 from a union select ^x from a,b;select 1 from a union "
+                + "^select x from b,a;select 1 from a where 'q'=^(x+1);select 1 from a,b where 'q'=^(x);"
+                + "select 1 from a,b where 1=(^x);select 1 from a where x in(select ^k from a,b);", "N", "N", "N", "N", "N", "N",
+                "N");
+        Calls.play(hall, "select 'q'from a union select ^y from a;select 1 from a union select ^y from a;select 1 from a where "
+                + "'q'=(^y);select 1 from a where 1=(^y);select 1 from a where 1 in(select ^y from b);select 1 from a where 'q'in("
+                + "select ^y from b);insert into a select 1,(^y)from a;insert into b select 1,(^y)from a;", "N", "N", "N", "N", "N",
+                "N", "N", "N");
         Calls.play(hall, "select ^k from a group by y;select count(*)from a group by ^y;select k from a group by k,^y;",
                 "N", "N", "N");
     }

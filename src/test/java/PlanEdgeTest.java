@@ -24,6 +24,7 @@ public final class PlanEdgeTest {
         ordersOfLikeCost();
         costsOfSeveralSources();
         blocksInTheOrderOfTheText();
+        outputsOfManyBytes();
         theOutputIsTheLatest();
         bytesOfTheOutput();
         Calls.end("PlanEdgeTest");
@@ -315,6 +316,14 @@ public final class PlanEdgeTest {
         plan(hall, "select*from u,t", "0scan,1scan,66;");
         plan(hall, "select*from t,u,u as x where x.k=1", "2.1,1scan,0scan,136;");
         plan(hall, "select*from u as x,t,u where t.k=1", "1.0,0scan,2scan,131;");
+        // Each order of three sources: the lesser ones first.
+        plan(hall, "select*from u,u as x,t", "0scan,1scan,2scan,402;");
+        plan(hall, "select*from u,t,u as x", "0scan,2scan,1scan,402;");
+        plan(hall, "select*from t,u,u as x", "1scan,2scan,0scan,402;");
+        plan(hall, "select*from t,u,u as x where u.k=5", "1.1,2scan,0scan,136;");
+        plan(hall, "select*from t,u,u as x where x.k=5", "2.1,1scan,0scan,136;");
+        plan(hall, "select*from u,t,u as x where x.k=5", "2.1,0scan,1scan,136;");
+        plan(hall, "select*from u,u as x,t where x.k=5", "1.1,0scan,2scan,136;");
         plan(hall, "select*from t,u,t as x where x.k=u.k and t.k=x.a", "1scan,2.0,0.0,126;");
         plan(hall, "select*from t,t as x,t as y where t.k=y.k and x.k=t.k and y.a=1 and y.b=1", "2.2,0.0,1.0,23;");
     }
@@ -357,6 +366,25 @@ public final class PlanEdgeTest {
                 "1scan,0scan,66;0.1,4;0scan,20;");
         plan(hall, "select*from t where exists(select*from u where exists(select*from v)and exists(select*from t as x))",
                 "0scan,10;0scan,6;0scan,20;0scan,10;");
+    }
+
+    private static void outputsOfManyBytes() {
+        Snapshothall hall = hall(10, 6);
+        String block = "select 1 from u,u as x,u as y where ";
+        String plan = "0scan,1scan,2scan,258;";
+        StringBuilder query = new StringBuilder();
+        StringBuilder want = new StringBuilder();
+        for (int i = 1; i <= 8; i++) {
+            query.append(block).append("exists(");
+            want.append(plan);
+            plan(hall, query + block + "1=1" + ")".repeat(i), want + plan);
+            Calls.due("length", Calls.output(hall).length(), 22 * (i + 1));
+        }
+        // With views of great cost: three of these, and three again.
+        String views = "select 1 from v,v as x,v as y";
+        plan(hall, views + " union " + views + " except " + views, "0scan,1scan,2scan,2220;".repeat(3));
+        plan(hall, "select*from u", "0scan,6;");
+        Calls.due("a byte of the longer one", hall.outputByte(8), Snapshothall.NONE);
     }
 
     // "the output, which explain wrote latest"

@@ -278,7 +278,7 @@ public final class QueryEdgeTest {
     private static void ordersByLateItems() {
         Snapshothall wide = new Snapshothall();
         Calls.done(wide, "create table o(a int,b int,c int,d int,e int,f int,primary(a));insert into o values(1,2,3,4,5,null);"
-                + "create table t(k int,a int,primary(k));insert into t values(1,7),(2,null),(3,5),(4,7);"
+                + "create table t(k int,a int,primary(k));insert into t values(1,7),(2,null),(3,-5),(4,7);"
                 + "create view one as select*from o,o as x,o as y;create view two as select*from one,one as x,one as y;");
         String[][] due = {{"order by 74", "2 3 1 4 "}, {"order by 74 down", "1 4 3 2 "}, {"order by 74 down,73 down", "4 1 3 2 "},
             {"order by 72,74 down limit 2", "1 4 "}, {"order by 64,65,73 down", "4 3 2 1 "}, {"order by 73", "1 2 3 4 "}};

@@ -340,7 +340,11 @@ public final class ScriptEdgeTest {
         Calls.play(hall, "open d for select k from t;", "0");
         Calls.due("cursors", hall.session(0, 2), 2);
         Calls.leaves(hall, "open e for select k from t;", "S");
-        Calls.play(hall, "close c;open e for select a from t;fetch e 1;fetch d 1;", "0", "0", "[1]", "[1]");
+        Calls.play(hall, "close c;open e for select a+100,a from t;fetch e 1;fetch d 1;fetch e 9;fetch d 9;", "0", "0", "[101,1]",
+                "[1]", "[102,2]", "[2]");
+        Calls.play(hall, "close d;open d for select k+5 from t;fetch d 1;close e;open e for select k+7 from t;fetch d 1;fetch e 2;"
+                + "close e;close d;open d for select k from t;open e for select k from t where k>1;fetch e 9;fetch d 1;",
+                "0", "0", "[6]", "0", "0", "[7]", "[8;9]", "0", "0", "0", "0", "[2]", "[1]");
         Calls.leaves(hall, "fetch c 1;", "S");
         Calls.leaves(hall, "open c for select k from t;", "S");
         Calls.play(hall, "1:begin;fetch d 1;open d for select 5 from t;fetch d 9;0:fetch d 9;", "0", "S", "0", "[5;5]",
@@ -359,6 +363,11 @@ public final class ScriptEdgeTest {
         Calls.leaves(hall, "drop table t;", "S");
         Calls.play(hall, "drop table u;create table u(k int,primary(k),refer(k)to u);drop table u;drop table t;",
                 "0", "0", "0", "0");
+        hall = hall();
+        Calls.done(hall, "create table u(k int,refer(k)to t,primary(k));create table w(k int,primary(k),check(k>0),refer(k)to u);");
+        Calls.leaves(hall, "drop table t;", "S");
+        Calls.leaves(hall, "drop table u;", "S");
+        Calls.play(hall, "drop table w;drop table u;drop table t;", "0", "0", "0");
         // Wherever in its query the view uses it.
         String[] uses = {"select k from t", "select k from u union select k from t", "select u.k from u,t as x where 1=2",
             "select k from u where exists(select*from t)",

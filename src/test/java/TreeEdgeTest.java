@@ -313,6 +313,10 @@ public final class TreeEdgeTest {
             Calls.throwsAlone(hall, "indexOf " + one, IndexOutOfBoundsException.class, () -> hall.indexOf(one, 0));
             Calls.throwsAlone(hall, "indexOf column " + one, IndexOutOfBoundsException.class, () -> hall.indexOf(0, one));
         }
+        Snapshothall other = hall();
+        Calls.done(other, "begin;insert into t values(1);rollback;");
+        Calls.due("DEAD at place 0", other.table(0, 3), 1);
+        Calls.due("seen of one DEAD", other.table(0, 4), 0);
         Calls.throwsAlone(hall, "table 2", IndexOutOfBoundsException.class, () -> hall.table(2, 0));
         Calls.throwsAlone(hall, "table what 7", IllegalArgumentException.class, () -> hall.table(0, 7));
         Calls.throwsAlone(hall, "spread of column 1", IndexOutOfBoundsException.class, () -> hall.spread(0, 1));

@@ -146,9 +146,27 @@ public final class ValueEdgeTest {
         Calls.due("index of u", hall.indexOf(2, 0), 2);
         Calls.due("index of t", hall.indexOf(3, 0), 3);
         Calls.due("index 0", Calls.hasIndex(hall, 0), false);
+        nothingIsLeftOfOneThatWasRefused();
         // One that could not be made has no number.
         Calls.play(hall, "create table ^t(k int,primary(k));" + create("x"), "N", "0");
         Calls.due("x", hall.tableOf(Calls.word("x")), 4);
+    }
+
+    private static void nothingIsLeftOfOneThatWasRefused() {
+        Snapshothall hall = new Snapshothall();
+        String refused = "(k int not null,b int not null,c word,check(k>0),unique(b),primary(k)";
+        Calls.play(hall, "create table ^a" + refused + ",primary(b));1:begin;create table a" + refused + ");rollback;", "N", "0",
+                "S", "0");
+        hall.setFuse(3, false);
+        Calls.play(hall, "create table a" + refused + ");", "P");
+        hall.restart();
+        Calls.play(hall, "create table ^a(k int,b int);create table a(b int,k int,primary(k));", "N", "0");
+        int[] due = {2, 1, 0, 0, 0, 1, 1};
+        for (int what = 0; what < due.length; what++) {
+            Calls.due("table(0, " + what + ")", hall.table(0, what), due[what]);
+        }
+        Calls.play(hall, "insert into a values(null,-1),(1,0),(1,1);insert into a values(null,null);select*from a;select ^c from a;",
+                "3", "R0", "[-,-1;1,0;1,1]", "N");
     }
 
     // "12 are made at most"
