@@ -16,7 +16,8 @@ public final class Snapshothall {
     private static final int FIRST_BYTE = 32, LAST_BYTE = 126;
     private static final int LONG_BYTES = 8, TYPED_BYTES = 40;
     private static final int MOST_RESULTS = 40, RESULT_WIDE = 6;
-    private static final int OWNER = 0, FROM = 1, TO = 2, REFUSAL = 3, NUMBER = 4, COLUMNS = 5, RECORD_WIDE = 6;
+    private static final int OWNER = 0, FROM = 1, TO = 2, REFUSAL = 3, NUMBER = 4, COLUMNS = 5, CELL = 6;
+    private static final int RECORD_WIDE = 7;
 
     private static final int INT = 1, WORD = 2;
     private static final long LEAST = 0x8000000000000000L, GREATEST = 0x7FFFFFFFFFFFFFFFL;
@@ -36,12 +37,13 @@ public final class Snapshothall {
     private int resultCount;
     private final int[] told = new int[MOST_RESULTS * RESULT_WIDE];
     private final Rows[] answer = new Rows[MOST_RESULTS];
-    // The statements of SERIALIZABLE transactions: their texts, and what they were told.
+    // The statements of SERIALIZABLE transactions: what they were told, their texts, the cells of their answers.
     private int records;
     private int[] record = new int[0];
-    private long[] answerHash = new long[0];
     private byte[] recordText = new byte[0];
     private int recordLength;
+    private long[] recordCell = new long[0];
+    private int recordCells;
 
     /** Promise 1. */
     public Snapshothall() {
@@ -128,7 +130,7 @@ public final class Snapshothall {
         told[at + 4] = rows.columns();
         told[at + 5] = hall.broken();
         resultCount++;
-        if (hall.ledger.isSerializable(hall.transaction)) {
+        if (hall.ledger.canBeTold(hall.transaction) && hall.ledger.toTell() <= MOST_SERIAL) {
             addRecord(script.place(n), script.kept(n) + 1);
         }
     }
@@ -139,14 +141,10 @@ public final class Snapshothall {
         if (bytes <= 0 || first < 0) {
             return;
         }
-        if (recordLength + bytes > recordText.length) {
-            recordText = Arrays.copyOf(recordText, 2 * (recordLength + bytes));
-        }
-        System.arraycopy(text, first, recordText, recordLength, bytes);
-        if (records >= answerHash.length) {
-            answerHash = Arrays.copyOf(answerHash, 2 * records + 16);
-            record = Arrays.copyOf(record, (2 * records + 16) * RECORD_WIDE);
-        }
+        int cells = Rows.cells(columnsOf(hall), hall.number);
+        // An answer behind so much work is never compared, as isSerial throws.
+        boolean isKept = hall.ledger.leastWork(hall.transaction) <= MOST_SERIAL_WORK;
+        makeRoom(bytes, isKept ? cells : 0);
         int at = records * RECORD_WIDE;
         record[at + OWNER] = hall.transaction;
         record[at + FROM] = recordLength;
@@ -154,17 +152,70 @@ public final class Snapshothall {
         record[at + REFUSAL] = hall.refusal;
         record[at + NUMBER] = hall.number;
         record[at + COLUMNS] = columnsOf(hall);
-        answerHash[records] = hashOf(hall);
+        record[at + CELL] = isKept ? recordCells : NONE;
+        System.arraycopy(text, first, recordText, recordLength, bytes);
+        if (isKept && hall.answer != null) {
+            hall.answer.write(hall.answerFrom, hall.number, recordCell, recordCells);
+            recordCells += cells;
+        }
         records++;
         recordLength += bytes;
     }
 
-    private static int columnsOf(Hall of) {
-        return of.answer == null ? 0 : of.answer.columns();
+    /** Makes room for one more record, first of all where those stand that are of no use any more. */
+    private void makeRoom(int bytes, int cells) {
+        if (!hasRoom(bytes, cells)) {
+            forgetRecords();
+        }
+        if (hasRoom(bytes, cells)) {
+            return;
+        }
+        if (RECORD_WIDE * (records + 1) > record.length) {
+            record = Arrays.copyOf(record, 2 * RECORD_WIDE * (records + 8));
+        }
+        if (recordLength + bytes > recordText.length) {
+            recordText = Arrays.copyOf(recordText, 2 * (recordLength + bytes));
+        }
+        if (recordCells + cells > recordCell.length) {
+            recordCell = Arrays.copyOf(recordCell, 2 * (recordCells + cells));
+        }
     }
 
-    private static long hashOf(Hall of) {
-        return of.answer == null ? 0 : of.answer.hash(of.answerFrom, of.number);
+    private boolean hasRoom(int bytes, int cells) {
+        return RECORD_WIDE * (records + 1) <= record.length && recordLength + bytes <= recordText.length
+                && recordCells + cells <= recordCell.length;
+    }
+
+    /** Forgets the records of transactions that the order can never tell; the others move up. */
+    private void forgetRecords() {
+        int all = records;
+        records = 0;
+        recordLength = 0;
+        recordCells = 0;
+        for (int r = 0; r < all; r++) {
+            int at = r * RECORD_WIDE;
+            if (!hall.ledger.canBeTold(record[at + OWNER])) {
+                continue;
+            }
+            int to = records * RECORD_WIDE;
+            System.arraycopy(record, at, record, to, RECORD_WIDE);
+            int bytes = record[to + TO] - record[to + FROM];
+            System.arraycopy(recordText, record[to + FROM], recordText, recordLength, bytes);
+            record[to + FROM] = recordLength;
+            recordLength += bytes;
+            record[to + TO] = recordLength;
+            if (record[to + CELL] != NONE) {
+                int cells = Rows.cells(record[to + COLUMNS], record[to + NUMBER]);
+                System.arraycopy(recordCell, record[to + CELL], recordCell, recordCells, cells);
+                record[to + CELL] = recordCells;
+                recordCells += cells;
+            }
+            records++;
+        }
+    }
+
+    private static int columnsOf(Hall of) {
+        return of.answer == null ? 0 : of.answer.columns();
     }
 
     /** Promise 6. */
@@ -422,30 +473,28 @@ public final class Snapshothall {
                                 record[r * RECORD_WIDE + TO]) != NONE) {
                     continue;
                 }
+                secondHall.isRoomy = record[r * RECORD_WIDE + REFUSAL] != FULL;
                 secondHall.perform(script, script.firstStatement());
                 work += secondHall.work;
-                if (secondHall.refusal == FULL && record[r * RECORD_WIDE + REFUSAL] != FULL) {
-                    // Versions that the hall itself had vacuumed by then may fill the second one.
-                    secondHall.store.vacuum();
-                    secondHall.perform(script, script.firstStatement());
-                }
                 if (work > MOST_SERIAL_WORK) {
                     throw new IllegalStateException("the work is too much");
                 }
-                isAlike = isAlikeAnew(r) && isAlike;
+                isAlike = isAlikeAnew(r * RECORD_WIDE) && isAlike;
+                secondHall.store.easeCrowd();
             }
         }
         return isAlike && hall.store.isLike(secondHall.store);
     }
 
-    /** Whether the outcome in the second hall is like the one kept, where that was no CONFLICT or POWER. */
-    private boolean isAlikeAnew(int r) {
-        int at = r * RECORD_WIDE;
+    /** Whether the outcome in the second hall is like that of a record, where that was no CONFLICT or POWER. */
+    private boolean isAlikeAnew(int at) {
         if (record[at + REFUSAL] == CONFLICT || record[at + REFUSAL] == POWER) {
             return true;
         }
         return record[at + REFUSAL] == secondHall.refusal && record[at + NUMBER] == secondHall.number
-                && record[at + COLUMNS] == columnsOf(secondHall) && answerHash[r] == hashOf(secondHall);
+                && record[at + COLUMNS] == columnsOf(secondHall)
+                && (secondHall.answer == null || record[at + CELL] != NONE && secondHall.answer.isWritten(
+                        secondHall.answerFrom, secondHall.number, recordCell, record[at + CELL]));
     }
 
     /** Promise 34. */
@@ -1566,12 +1615,6 @@ public final class Snapshothall {
         return moved;
     }
 
-    private static long mixed(long hash, long number) {
-        long one = (hash ^ number) * 0x9E3779B97F4A7C15L;
-        one = (one ^ one >>> 29) * 0xBF58476D1CE4E5B9L;
-        return (one ^ one >>> 32) + 0x94D049BB133111EBL;
-    }
-
     /** Rows of values: a row is its values, and behind these a bit for each one that is NULL. */
     private static final class Rows {
         private long[] cell = new long[0];
@@ -1770,14 +1813,35 @@ public final class Snapshothall {
             }
         }
 
-        long hash(int from, int howMany) {
-            long hash = mixed(columns, howMany);
-            for (int i = Math.max(0, from); i < from + howMany && i < count; i++) {
-                for (int j = 0; j < width; j++) {
-                    hash = mixed(hash, cell[i * width + j]);
+        /** How many cells so many rows take, with the bits of what is NULL. */
+        static int cells(int columns, int rows) {
+            return Math.max(0, rows) * (columns + (columns + 63 >> 6));
+        }
+
+        /** Whether there are so many rows from one on, and a place for their cells in an array. */
+        private boolean fits(int from, int howMany, long[] cells, int at) {
+            return from >= 0 && howMany >= 0 && from + howMany <= count
+                    && at >= 0 && at + howMany * width <= cells.length;
+        }
+
+        /** Puts the cells of some rows into an array, from a place on. */
+        void write(int from, int howMany, long[] into, int at) {
+            if (fits(from, howMany, into, at)) {
+                System.arraycopy(cell, from * width, into, at, howMany * width);
+            }
+        }
+
+        /** Whether an array has, from a place on, just the cells of some rows. */
+        boolean isWritten(int from, int howMany, long[] in, int at) {
+            if (!fits(from, howMany, in, at)) {
+                return false;
+            }
+            for (int i = 0; i < howMany * width; i++) {
+                if (cell[from * width + i] != in[at + i]) {
+                    return false;
                 }
             }
-            return hash;
+            return true;
         }
     }
 
@@ -1813,9 +1877,10 @@ public final class Snapshothall {
         final Rows seen = new Rows();
         int[] seenPlace = new int[0];
         int seenAt;
-        /** The number of the statement that made a view; the work of its query. */
+        /** The number of the statement that made a view; the work of its query; how many blocks it asks. */
         int madeAt;
         long work;
+        int blocks;
 
         void clear(int itsNumber, long itsName, boolean isAView) {
             number = itsNumber;
@@ -1988,6 +2053,9 @@ public final class Snapshothall {
 
         void make(Rows values, int row, int maker, int statement) {
             int place = versions.add();
+            if (versions.count * WIDE > info.length) {
+                info = Arrays.copyOf(info, 2 * versions.count * WIDE);
+            }
             versions.copy(place, values, row);
             put(place, MADE, maker);
             put(place, ENDED, NONE);
@@ -2239,10 +2307,11 @@ public final class Snapshothall {
         static final int MOST = 200;
         static final int RANGE = 0, VALUES = 1, WRITE = 2;
         private static final int PHASE = 0, SERIAL = 1, SNAPSHOT = 2, STAMP = 3, BEGUN = 4, ENDED = 5, MARKS = 6;
-        private static final int WIDE = 8, WORDS = 4;
+        private static final int WORK = 7, WIDE = 8, WORDS = 4;
         private static final int OWNER = 0, KIND = 1, TABLE = 2, BITS = 3, NEXT = 4, TRACE_WIDE = 5;
         /** So many of the latest marks are looked through for a like one, which need not be kept twice. */
         private static final int LOOK_BACK = 512;
+        private static final int MOST_ADDED = 10000;
 
         private final int[] info = new int[MOST * WIDE];
         private final long[] edge = new long[MOST * WORDS];
@@ -2336,6 +2405,7 @@ public final class Snapshothall {
             put(one, BEGUN, moments);
             put(one, ENDED, NONE);
             put(one, MARKS, 0);
+            put(one, WORK, 0);
             firstMark[one] = NONE;
             firstWrite[one] = NONE;
             moments++;
@@ -2360,6 +2430,25 @@ public final class Snapshothall {
                 edge[i * WORDS + (one >> 6)] &= ~(1L << (one & 63));
             }
             Arrays.fill(edge, one * WORDS, one * WORDS + WORDS, 0);
+        }
+
+        /** Whether the order tells a transaction, or will tell it if it commits. */
+        boolean canBeTold(int one) {
+            return isSerializable(one) && info[one * WIDE + PHASE] != ROLLED_BACK;
+        }
+
+        /** Adds the least work that a query of a transaction can have, whatever its tables hold. */
+        void addWork(int one, int work) {
+            put(one, WORK, Math.min(MOST_ADDED, tell(one, WORK) + work));
+        }
+
+        /** The least work of the queries of one transaction and those that the order tells now. */
+        int leastWork(int one) {
+            int work = 0;
+            for (int i = 0; i < count; i++) {
+                work += i == one || hasCommitted(i) && isSerializable(i) ? info[i * WIDE + WORK] : 0;
+            }
+            return work;
         }
 
         // what is seen
@@ -2643,6 +2732,8 @@ public final class Snapshothall {
         static final int MOST_INDEXES = 8, MOST_INDEXES_MADE = 16;
         /** Behind the tables stands the one that a statement would make, and then the views. */
         private static final int FIRST_VIEW = MOST_MADE + 1, PLACES = FIRST_VIEW + MOST_VIEWS;
+        /** More blocks than the work of any statement lets be asked. */
+        private static final int MOST_BLOCKS = 1000;
 
         private final Ledger ledger;
         private final Table[] table = new Table[PLACES];
@@ -2752,6 +2843,16 @@ public final class Snapshothall {
                 found += one != null && (itsTable == NONE || one.table == itsTable) ? 1 : 0;
             }
             return found;
+        }
+
+        /** How many blocks some nodes ask, each once; those of the views among their sources too. */
+        int blocks(Tree tree, int first, int last) {
+            int found = 0;
+            for (int n = first; n < last; n++) {
+                Table one = tree.kind(n) == Tree.SOURCE ? at(tree.c(n) - 1) : null;
+                found += tree.kind(n) == Tree.BLOCK ? 1 : one != null && one.isView ? one.blocks : 0;
+            }
+            return Math.min(found, MOST_BLOCKS);
         }
 
         /** The number of tables, views and indexes but those on keys, of which each table has one. */
@@ -2898,8 +2999,11 @@ public final class Snapshothall {
                 return;
             }
             of.seenAt = statement;
+            if (of.seenPlace.length < of.count()) {
+                of.seenPlace = new int[2 * of.count()];
+            }
             int found = 0;
-            for (int p = 0; p < of.count() && p < of.seenPlace.length; p++) {
+            for (int p = 0; p < of.count(); p++) {
                 if (!ledger.sees(of, p, transaction, snapshot)) {
                     continue;
                 }
@@ -2947,6 +3051,17 @@ public final class Snapshothall {
                 least = ledger.isOpen(i) ? Math.min(least, ledger.snapshot(i)) : least;
             }
             return leave(least, false);
+        }
+
+        /** Vacuums, if some table has more versions than a table may have. */
+        void easeCrowd() {
+            boolean isCrowded = false;
+            for (int i = 0; i < MOST_MADE; i++) {
+                isCrowded |= at(i) != null && table[i].count() > Table.MOST_VERSIONS;
+            }
+            if (isCrowded) {
+                vacuum();
+            }
         }
 
         /** Leaves the versions of transactions that committed; answers how many versions there are then. */
@@ -4471,7 +4586,7 @@ public final class Snapshothall {
         private int transaction;
         private int snapshot;
         /** The places of the versions to be ended, and the values of those to be made. */
-        private final int[] chosen = new int[Table.MOST_VERSIONS];
+        private int[] chosen = new int[Table.MOST_VERSIONS];
         private int chosens;
         private final Rows fresh = new Rows();
         /** The first version that the statement made; NONE while it has changed nothing. */
@@ -4498,13 +4613,12 @@ public final class Snapshothall {
         }
 
         /** Works out what a statement is to change; answers how many rows, NONE if it is too much. */
-        int plan(Tree tree, int statement, Table itsTable) {
+        int plan(Tree tree, int statement, Table itsTable, int mostVersions) {
             table = itsTable;
             fresh.start(table.columns);
             if (tree.kind(statement) != Tree.INSERT) {
                 choose(tree, statement);
-                boolean isFull = table.count() + fresh.count() > Table.MOST_VERSIONS;
-                return isFull ? NONE : chosens;
+                return table.count() + fresh.count() > mostVersions ? NONE : chosens;
             }
             if (tree.b(statement) != 0) {
                 Rows asked = asker.ask(tree.b(statement));
@@ -4522,14 +4636,17 @@ public final class Snapshothall {
                     column++;
                 }
             }
-            return table.count() + fresh.count() > Table.MOST_VERSIONS ? NONE : fresh.count();
+            return table.count() + fresh.count() > mostVersions ? NONE : fresh.count();
         }
 
         private void choose(Tree tree, int statement) {
             int where = tree.b(statement);
+            if (chosen.length < table.seen.count()) {
+                chosen = new int[2 * table.seen.count()];
+            }
             for (int i = 0; i < table.seen.count(); i++) {
                 asker.stand(table.seen, i);
-                if (where != 0 && asker.truth(where) != Asker.TRUE || chosens >= chosen.length) {
+                if (where != 0 && asker.truth(where) != Asker.TRUE) {
                     continue;
                 }
                 chosen[chosens] = table.seenPlace[i];
@@ -4902,6 +5019,11 @@ public final class Snapshothall {
         private final Session[] session = new Session[SESSIONS];
         /** The number of the statement that is done now. */
         private int statement;
+        /**
+         * Whether a table may have more versions than the document lets: run anew, it can have those that
+         * had been vacuumed, or were not made as yet, when the statement was done first.
+         */
+        boolean isRoomy;
         private int fuse;
         private boolean isFuseBehind;
         int written;
@@ -5117,6 +5239,7 @@ public final class Snapshothall {
                     Table view = store.addView(name, tree, n);
                     if (view != null) {
                         view.madeAt = statement;
+                        view.blocks = store.blocks(tree, n, tree.e(n));
                         checker.addColumns(view);
                     }
                     break;
@@ -5222,6 +5345,7 @@ public final class Snapshothall {
             }
             boolean isOwn = one == NONE;
             transaction = isOwn ? ledger.begin(true) : one;
+            ledger.addWork(transaction, store.blocks(tree, n, tree.e(n)));
             changer.markSources(tree, n, transaction);
             settle(own, isOwn, 0);
             if (refusal == 0 && tree.kind(n) == Tree.SELECT) {
@@ -5239,7 +5363,8 @@ public final class Snapshothall {
                 return;
             }
             store.see(of, one, ledger.snapshot(one), statement);
-            int changed = ready(tree, n, one) ? changer.plan(tree, n, of) : NONE;
+            int most = isRoomy ? LATEST : Table.MOST_VERSIONS;
+            int changed = ready(tree, n, one) ? changer.plan(tree, n, of, most) : NONE;
             if (changed == NONE) {
                 refusal = FULL;
                 return;

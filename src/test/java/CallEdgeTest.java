@@ -21,8 +21,15 @@ public final class CallEdgeTest {
         isSerialWithAWorkOfAtMostFourHundred();
         isSerialIfItCannotBe();
         isSerialOfWhatIsUnlike();
+        isSerialOfAnswersUnlikeInABit();
+        isSerialOfWideAnswersUnlikeInAValue();
+        isSerialOfTheLastAnswers();
+        isSerialAmongManyRolledBack();
         isSerialWithoutExplain();
         isSerialOfRefusals();
+        isSerialOfMoreVersionsThanATableHas();
+        isSerialOfMoreRowsThanATableHas();
+        isSerialOfWhatWasFull();
         isSerialChangesNothing();
         errorsAreNone();
         fiveHundredCalls();
@@ -337,6 +344,115 @@ public final class CallEdgeTest {
         Calls.due("isSerial by another RULE", hall.isSerial(), true);
     }
 
+    /** Each bit of an answer counts, and NULL is not 0. */
+    private static void isSerialOfAnswersUnlikeInABit() {
+        for (int bit = 0; bit < 64; bit++) {
+            Snapshothall hall = new Snapshothall();
+            Calls.done(hall, "create table t(k int,a int,primary(k));insert into t values(1,0);");
+            String sum = Calls.many("65536*", "", bit / 16) + (1 << bit % 16);
+            Calls.done(hall, "begin snapshot;update t set a=" + sum + ";commit;");
+            Calls.play(hall, "select a from t;", "[" + (1L << bit) + "]");
+            Calls.done(hall, "begin snapshot;update t set a=0;commit;");
+            Calls.due("isSerial unlike in bit " + bit, hall.isSerial(), false);
+            Calls.done(hall, "select a from t;");
+            Calls.due("isSerial unlike in bit " + bit, hall.isSerial(), false);
+        }
+        String[][] due = {{"null", "0", "false"}, {"0", "null", "false"}, {"null", "null", "true"}, {"7", "7", "true"},
+            {"0", "0-0", "true"}, {"1", "-1", "false"}};
+        for (String[] one : due) {
+            Snapshothall hall = new Snapshothall();
+            Calls.done(hall, "create table t(k int,a int,b word,primary(k));insert into t values(1," + one[1] + ",'b');begin snapshot;"
+                    + "update t set a=" + one[0] + ";commit;select*from t;begin snapshot;update t set a=" + one[1] + ";commit;");
+            Calls.due("isSerial of " + one[0] + " and " + one[1], hall.isSerial(), one[2].equals("true"));
+        }
+    }
+
+    /** Answers of many columns and rows, of which one value is unlike. */
+    private static void isSerialOfWideAnswersUnlikeInAValue() {
+        for (int row = 1; row <= 4; row++) {
+            for (int column = 0; column < 5; column++) {
+                Snapshothall hall = new Snapshothall();
+                Calls.done(hall, "create table t(k int,a int,b int,c int,d int,e int,primary(k));insert into t values(1,0,0,0,0,0),"
+                        + "(2,0,0,0,0,0),(3,0,0,0,0,0),(4,null,null,null,null,null);create table o(k int,primary(k));insert into o "
+                        + "values(1);create view v as select*from o,t;create view w as select x.k as l from v as y,o as x where y.e=0 and y.e=1;");
+                String set = "update t set " + (char) ('a' + column) + "=";
+                Calls.done(hall, "begin snapshot;" + set + (row < 4 ? "null" : "0") + " where k=" + row + ";commit;begin;"
+                        + "select*from t left join w on 1=1;commit;begin snapshot;" + set + (row < 4 ? "0" : "null") + " where k="
+                        + row + ";commit;");
+                Calls.due("isSerial, row " + row + " column " + column, hall.isSerial(), false);
+            }
+        }
+        // Columns 64 and more have their bits for NULL in another number.
+        String views = "create table t(k int,a int,primary(k));insert into t values(1,0);create view u as select*from t,t as x,t as y;"
+                + "create view v as select*from u,u as x,u as y;create view w as select*from v,v as x,v as y;";
+        Snapshothall hall = new Snapshothall();
+        Calls.done(hall, views);
+        Calls.due("rows", Calls.tell(hall, "select*from w;").length(), 109);
+        Calls.done(hall, "begin snapshot;delete from t;commit;");
+        Calls.due("rows", Calls.tell(hall, "select*from t left join w on 1=1;"), "[]");
+        Calls.done(hall, "begin snapshot;insert into t values(1,null);commit;");
+        Calls.due("isSerial of answers of 54 and 56 columns", hall.isSerial(), false);
+        String[][] due = {{"0", "null", "false"}, {"null", "0", "false"}, {"5", "5", "true"}, {"5", "6", "false"}};
+        for (String[] one : due) {
+            hall = new Snapshothall();
+            Calls.done(hall, views.replace("(1,0)", "(1," + one[1] + ")") + "begin snapshot;update t set a=" + one[0]
+                    + ";commit;select*from w,v;begin snapshot;update t set a=" + one[1] + ";commit;");
+            Calls.due("columns", hall.result(8, 4), 72);
+            Calls.due("isSerial of " + one[0] + " and " + one[1], hall.isSerial(), one[2].equals("true"));
+        }
+    }
+
+    /** The last answers that the WORK of 400 lets be looked at, and what is fetched of them. */
+    private static void isSerialOfTheLastAnswers() {
+        String[] last = {"select a from t;", "begin;open c for select a from t;fetch c 1;commit;"};
+        for (int i = 0; i < 4; i++) {
+            Snapshothall hall = new Snapshothall();
+            Calls.done(hall, "create table t(k int,a int,primary(k));insert into t values(1,1);begin;");
+            for (int k = 0; k < 21; k++) {
+                Calls.done(hall, Calls.many("select k from t;", "", 19));
+            }
+            Calls.done(hall, "commit;" + (i < 2 ? "" : "begin snapshot;update t set a=2;commit;") + last[i % 2]
+                    + "begin snapshot;update t set a=1;commit;");
+            Calls.due("isSerial at 400, " + i, hall.isSerial(), i < 2);
+            Calls.done(hall, "select k from t;");
+            Calls.throwsAlone(hall, "isSerial at 401", IllegalStateException.class, hall::isSerial);
+        }
+        // More than 400, but of transactions that are rolled back.
+        Snapshothall hall = hall();
+        for (int i = 0; i < 30; i++) {
+            Calls.done(hall, "begin;" + Calls.many("select*from t;", "", 30) + "rollback;");
+            Calls.due("isSerial behind rollback", hall.isSerial(), true);
+        }
+        Calls.done(hall, "select*from t;");
+        Calls.due("isSerial by an answer", hall.isSerial(), true);
+        Calls.done(hall, "begin snapshot;update t set a=5;commit;select*from t;");
+        Calls.due("isSerial by an answer", hall.isSerial(), false);
+    }
+
+    /** Records that are kept stay what they are, when those of transactions rolled back among them are forgotten. */
+    private static void isSerialAmongManyRolledBack() {
+        for (int unlike = 0; unlike < 9; unlike++) {
+            Snapshothall hall = new Snapshothall();
+            Calls.done(hall, "create table t(k int,a int,primary(k));insert into t values(1,0),(2,0);0:begin;");
+            for (int i = 1; i < 9; i++) {
+                Calls.done(hall, "1:begin;2:begin;select*from t,t as x;1:select*from t where k=1;2:rollback;1:commit;");
+                Calls.done(hall, i == unlike ? "1:begin snapshot;update t set a=1;commit;" : "3:select*from t;begin;rollback;");
+                Calls.done(hall, "0:" + Calls.many("select*from t,t as x;", "", i == 8 ? 3 : 2));
+                if (i == unlike) {
+                    Calls.done(hall, "1:select a from t;begin snapshot;update t set a=0;commit;");
+                }
+                if (i == 1) {
+                    Calls.done(hall, "0:commit;begin;");
+                }
+                if (hall.order(9) != Snapshothall.NONE) {
+                    break;
+                }
+            }
+            Calls.done(hall, "0:rollback;");
+            Calls.due("isSerial, unlike " + unlike, hall.isSerial(), unlike == 0 || unlike > 4);
+        }
+    }
+
     /** What explain tells, which is no statement of a transaction, is not compared. */
     private static void isSerialWithoutExplain() {
         Snapshothall hall = hall();
@@ -354,6 +470,101 @@ public final class CallEdgeTest {
         Calls.due("isSerial", hall.isSerial(), true);
         Calls.done(hall, "0:begin;select*from t;1:update t set a=7;0:commit;vacuum;create index i on t(a);drop index i;");
         Calls.due("isSerial", hall.isSerial(), true);
+    }
+
+    /** Inserts rows with the keys from one on, ten by ten. */
+    private static void insert(Snapshothall hall, int session, int from, int howMany) {
+        for (int ten = from; ten < from + howMany; ten += 10) {
+            StringBuilder text = new StringBuilder(session + ":insert into t values");
+            for (int k = ten; k < Math.min(ten + 10, from + howMany); k++) {
+                text.append(k == ten ? "(" : ",(").append(k).append(')');
+            }
+            Calls.done(hall, text.append(';').toString());
+        }
+    }
+
+    private static Snapshothall oneColumn() {
+        Snapshothall hall = new Snapshothall();
+        Calls.done(hall, "create table t(k int,primary(k));");
+        return hall;
+    }
+
+    // "always true": whatever was rolled back, taken back, or taken out by vacuum or restart(), of which nothing is run anew
+    private static void isSerialOfMoreVersionsThanATableHas() {
+        // Taken back and vacuumed, behind another one that comes first; up to a hundred versions of each of both.
+        for (int rows = 0; rows <= 100; rows += 25) {
+            Snapshothall hall = oneColumn();
+            Calls.done(hall, "0:begin;1:begin;save s;");
+            insert(hall, 1, 100, rows);
+            Calls.play(hall, "1:rollback to s;vacuum;commit;", "0", "" + rows, "0");
+            insert(hall, 0, 300, 100);
+            Calls.done(hall, "0:commit;");
+            Calls.due("order", hall.order(1) * 10 + hall.order(2), 12);
+            Calls.due("isSerial of a hundred and " + rows, hall.isSerial(), true);
+            Calls.due("isSerial again", hall.isSerial(), true);
+        }
+        // Ended, and taken out by vacuum or restart.
+        for (int how = 0; how < 2; how++) {
+            Snapshothall hall = oneColumn();
+            for (int i = 0; i < 3; i++) {
+                Calls.done(hall, "begin;");
+                insert(hall, 0, 50 * i, 100);
+                Calls.done(hall, "commit;");
+                Calls.due("isSerial", hall.isSerial(), true);
+                Calls.done(hall, "delete from t;");
+                hall.setFuse(how, false);
+                Calls.play(hall, "create table u(k int,primary(k));drop table u;vacuum;", how == 0 ? "0" : "P", how == 0 ? "0" : "P",
+                        how == 0 ? "100" : "P");
+                Calls.due("versions", hall.isDown() ? hall.restart() : 0, 0);
+                if (i < 2) {
+                    Calls.due("isSerial of none", hall.isSerial(), true);
+                }
+            }
+        }
+        // In one transaction, which takes back and vacuums again and again.
+        Snapshothall hall = oneColumn();
+        Calls.done(hall, "0:begin;1:begin;");
+        insert(hall, 1, 0, 40);
+        Calls.done(hall, "1:save s;");
+        for (int i = 0; i < 9; i++) {
+            insert(hall, 1, 40, 60);
+            Calls.play(hall, "1:insert into t values(" + i + "),(200);rollback to s;vacuum;", "F", "0", "60");
+            insert(hall, 1, 40, 58);
+            Calls.play(hall, "1:insert into t values(" + i + "),(200);rollback to s;vacuum;", "R0", "0", "58");
+        }
+        insert(hall, 0, 500, 60);
+        Calls.done(hall, "1:commit;0:commit;");
+        Calls.due("isSerial", hall.isSerial(), true);
+    }
+
+    /** More rows than a table has, if they are made anew and what a SNAPSHOT transaction deleted is still there. */
+    private static void isSerialOfMoreRowsThanATableHas() {
+        Snapshothall hall = oneColumn();
+        Calls.done(hall, "begin;");
+        insert(hall, 0, 0, 60);
+        Calls.done(hall, "commit;begin snapshot;delete from t;commit;vacuum;begin;");
+        insert(hall, 0, 100, 60);
+        Calls.done(hall, "commit;");
+        Calls.due("isSerial of 60 rows, and 120", hall.isSerial(), false);
+        Calls.done(hall, "delete from t where k>=0;");
+        Calls.due("isSerial by a number", hall.isSerial(), false);
+    }
+
+    /** A statement that was FULL is FULL anew, if the table has as many versions then. */
+    private static void isSerialOfWhatWasFull() {
+        for (int taken = 0; taken < 2; taken++) {
+            Snapshothall hall = oneColumn();
+            Calls.done(hall, "begin;save s;");
+            insert(hall, 0, 0, 100);
+            Calls.play(hall, (taken == 1 ? "rollback to s;" : "save s;") + "insert into t values(100);commit;", "0", "F", "0");
+            Calls.due("isSerial", hall.isSerial(), true);
+        }
+        // Those of a transaction that was rolled back are not there anew.
+        Snapshothall hall = oneColumn();
+        Calls.done(hall, "begin;");
+        insert(hall, 0, 0, 100);
+        Calls.play(hall, "rollback;begin;insert into t values(100);commit;", "0", "0", "F", "0");
+        Calls.due("isSerial of what is not FULL anew", hall.isSerial(), false);
     }
 
     private static void isSerialChangesNothing() {
